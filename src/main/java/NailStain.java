@@ -660,19 +660,14 @@ public final class NailStain {
 
         int value(int letter, int[] letters, int least, int most) {
             for (int i = 0; i < clauses; i++) {
-                if (letterOf[i] == letter && holds(i, letters)) {
-                    int number = run(numberFrom[i], letters);
-                    return refused ? 0 : held(number, least, most);
+                if (letterOf[i] == letter && run(conditionFrom[i], letters) != 0) {
+                    return held(run(numberFrom[i], letters), least, most);
                 }
             }
             return 0;
         }
 
-        private boolean holds(int clause, int[] letters) {
-            int answer = run(conditionFrom[clause], letters);
-            return !refused && answer != 0;
-        }
-
+        /** What is refused answers 0: a condition does not hold by that, and a number is 0 then. */
         private int run(int from, int[] letters) {
             refused = false;
             top = 0;
@@ -684,12 +679,13 @@ public final class NailStain {
                 }
                 at = stepOn(at, letters);
             }
-            return pop();
+            return refused ? 0 : pop();
         }
 
         private int stepOn(int at, int[] letters) {
             int kind = steps[at] & KIND_MASK;
             int operand = steps[at] >> KIND_BITS;
+            int found;
             switch (kind) {
                 case NUMBER:
                     push(operand);
@@ -702,21 +698,17 @@ public final class NailStain {
                     return at + 1;
                 case SKIP_IF_FALSE:
                 case SKIP_IF_TRUE:
-                    return settle(kind == SKIP_IF_TRUE ? 1 : 0) ? operand : at + 1;
+                    found = pop();
+                    if (found == (kind == SKIP_IF_TRUE ? 1 : 0)) {
+                        push(found);
+                        return operand;
+                    }
+                    return at + 1;
                 default:
-                    int right = pop();
-                    push(reckon(kind, pop(), right));
+                    found = pop();
+                    push(reckon(kind, pop(), found));
                     return at + 1;
             }
-        }
-
-        /** Whether what stands on the stack settles the matter; if not, what comes next takes its place. */
-        private boolean settle(int answer) {
-            int found = pop();
-            if (found == answer) {
-                push(found);
-            }
-            return found == answer;
         }
 
         private void push(int number) {
@@ -749,16 +741,12 @@ public final class NailStain {
                 case EQUAL:
                     return left == right ? 1 : 0;
                 default:
-                    return divided(kind, left, right);
+                    if (right == 0) {
+                        refused = true;
+                        return 0;
+                    }
+                    return kind == DIVIDE ? left / right : left % right;
             }
-        }
-
-        private int divided(int kind, int left, int right) {
-            if (right == 0) {
-                refused = true;
-                return 0;
-            }
-            return kind == DIVIDE ? left / right : left % right;
         }
     }
 
@@ -771,11 +759,13 @@ public final class NailStain {
         private static final int OPEN_MOST = 6;
         private static final int DIGITS_MOST = 5;
         private static final String KNOWN = "fsdnckyzmxtvw";
+        private static final String DIGITS = "0123456789";
 
         private final Tape tape;
         private Text text;
         private int end;
         private int at;
+        private int sign;
         private int open;
         private int fault;
 
@@ -789,11 +779,12 @@ public final class NailStain {
             text.clear();
             end = bytes;
             at = 0;
+            sign = tape.byteAt(0);
             open = 0;
             fault = 0;
             readClause(starts);
-            while (fault == 0 && at < end && peek() == ';') {
-                at++;
+            while (at < end && isOneOf(";")) {
+                advance();
                 readClause(starts);
             }
             if (at < end) {
@@ -802,8 +793,9 @@ public final class NailStain {
             return fault == 0 ? text.clauses : -1000 * fault - at;
         }
 
-        private int peek() {
-            return at < end ? tape.byteAt(at) : Tape.END;
+        private void advance() {
+            at++;
+            sign = at < end ? tape.byteAt(at) : Tape.END;
         }
 
         /** The place of a fault is where reading stands: behind a fault nothing moves on. */
@@ -813,19 +805,15 @@ public final class NailStain {
             }
         }
 
-        private void take(int sign) {
-            if (fault != 0) {
-                return;
-            }
-            if (peek() == sign) {
-                at++;
+        private void take(String wanted) {
+            if (isOneOf(wanted)) {
+                advance();
             } else {
                 refuse(CANNOT_STAND);
             }
         }
 
         private boolean isOneOf(String signs) {
-            int sign = peek();
             return fault == 0 && sign >= 0 && signs.indexOf((char) sign) >= 0;
         }
 
@@ -838,16 +826,16 @@ public final class NailStain {
                 refuse(TOO_MANY_CLAUSES);
                 return;
             }
-            text.beginClause(peek());
-            at++;
+            text.beginClause(sign);
+            advance();
             readSum();
             text.add(Text.END, 0);
             text.beginCondition();
-            take('(');
+            take("(");
             open++;
             readAny();
             open--;
-            take(')');
+            take(")");
             text.add(Text.END, 0);
         }
 
@@ -857,14 +845,14 @@ public final class NailStain {
                 return false;
             }
             open++;
-            at++;
+            advance();
             return true;
         }
 
         private void readAny() {
             readAll();
             while (at < end && isOneOf("|")) {
-                at++;
+                advance();
                 int skip = text.add(Text.SKIP_IF_TRUE, 0);
                 readAll();
                 text.landHere(skip);
@@ -874,7 +862,7 @@ public final class NailStain {
         private void readAll() {
             readPiece();
             while (at < end && isOneOf("&")) {
-                at++;
+                advance();
                 int skip = text.add(Text.SKIP_IF_FALSE, 0);
                 readPiece();
                 text.landHere(skip);
@@ -892,42 +880,34 @@ public final class NailStain {
                 if (opens()) {
                     readAny();
                     open--;
-                    take(')');
+                    take(")");
                 }
             } else {
-                readComparison();
+                readSum();
+                int kind = sign == '<' ? Text.LESS : sign == '>' ? Text.MORE : Text.EQUAL;
+                take("<>=");
+                readSum();
+                text.add(kind, 0);
             }
-        }
-
-        private void readComparison() {
-            readSum();
-            if (!isOneOf("<>=")) {
-                refuse(CANNOT_STAND);
-                return;
-            }
-            int sign = peek();
-            at++;
-            readSum();
-            text.add(sign == '<' ? Text.LESS : sign == '>' ? Text.MORE : Text.EQUAL, 0);
         }
 
         private void readSum() {
             readProduct();
             while (at < end && isOneOf("+-")) {
-                int sign = peek();
-                at++;
+                int kind = sign == '+' ? Text.ADD : Text.SUBTRACT;
+                advance();
                 readProduct();
-                text.add(sign == '+' ? Text.ADD : Text.SUBTRACT, 0);
+                text.add(kind, 0);
             }
         }
 
         private void readProduct() {
             readFactor();
             while (at < end && isOneOf("*/%")) {
-                int sign = peek();
-                at++;
+                int kind = sign == '*' ? Text.MULTIPLY : sign == '/' ? Text.DIVIDE : Text.MODULO;
+                advance();
                 readFactor();
-                text.add(sign == '*' ? Text.MULTIPLY : sign == '/' ? Text.DIVIDE : Text.MODULO, 0);
+                text.add(kind, 0);
             }
         }
 
@@ -936,30 +916,25 @@ public final class NailStain {
                 if (opens()) {
                     readSum();
                     open--;
-                    take(']');
+                    take("]");
                 }
             } else if (isOneOf(KNOWN)) {
-                text.add(Text.LETTER, peek() - 'a');
-                at++;
-            } else if (isDigit()) {
+                text.add(Text.LETTER, sign - 'a');
+                advance();
+            } else if (isOneOf(DIGITS)) {
                 readNumber();
             } else {
                 refuse(CANNOT_STAND);
             }
         }
 
-        private boolean isDigit() {
-            int sign = peek();
-            return fault == 0 && sign >= '0' && sign <= '9';
-        }
-
         private void readNumber() {
             int number = 0;
-            for (int digit = 0; digit < DIGITS_MOST && isDigit(); digit++) {
-                number = number * 10 + peek() - '0';
-                at++;
+            for (int digit = 0; digit < DIGITS_MOST && isOneOf(DIGITS); digit++) {
+                number = number * 10 + sign - '0';
+                advance();
             }
-            if (isDigit()) {
+            if (isOneOf(DIGITS)) {
                 refuse(SIXTH_DIGIT);
             }
             text.add(Text.NUMBER, number);
@@ -1122,11 +1097,15 @@ public final class NailStain {
         private static final int MOST = 4;
         private static final int SLIP = 50;
         private static final int APART_MOST = 12000;
+        // Fifteen halvings leave one of the 24001 shifts.
+        private static final int HALVINGS = 15;
 
         private final Ship ship;
         private final int[] across = new int[MOST * RIVETS_MOST];
         private final int[] deep = new int[MOST * RIVETS_MOST];
         private final boolean[] isMarked = new boolean[MOST * RIVETS_MOST];
+        private final int[] gaps = new int[RIVETS_MOST];
+        private final int[] deepGaps = new int[RIVETS_MOST];
         private int made;
 
         Drawings(Ship ship) {
@@ -1195,30 +1174,37 @@ public final class NailStain {
             return found;
         }
 
-        private boolean bothMark(int a, int b, int rivet) {
-            return hasMark(a, rivet) && hasMark(b, rivet);
+        /** Puts in a row how far the marks of b are from those of a, by rivets that both have: how many. */
+        private int gather(int a, int b, int which, int[] row) {
+            int common = 0;
+            for (int rivet = 0; rivet < RIVETS_MOST; rivet++) {
+                if (hasMark(a, rivet) && hasMark(b, rivet)) {
+                    row[common] = at(b, rivet, which) - at(a, rivet, which);
+                    common++;
+                }
+            }
+            return common;
         }
 
         int common(int a, int b) {
-            int found = 0;
-            for (int rivet = 0; rivet < RIVETS_MOST; rivet++) {
-                found += bothMark(a, b, rivet) ? 1 : 0;
-            }
-            return found;
+            return gather(a, b, 0, gaps);
         }
 
-        private int between(int a, int b, int rivet, int which) {
-            return at(b, rivet, which) - at(a, rivet, which);
-        }
-
-        /** The lower median: the least shift that no smaller half of the rivets would rather have lower. */
         int shift(int a, int b, int which) {
-            int common = common(a, b);
+            return lowerMedian(gaps, gather(a, b, which, gaps));
+        }
+
+        /** No shift leaves less than the median does, and of two middle ones the lower is the least such shift. */
+        private static int lowerMedian(int[] row, int many) {
             int least = -APART_MOST;
             int most = APART_MOST;
-            while (least < most) {
+            for (int halving = 0; halving < HALVINGS && least < most; halving++) {
                 int middle = Math.floorDiv(least + most, 2);
-                if (2 * notAbove(a, b, which, middle) >= common) {
+                int notAbove = 0;
+                for (int i = 0; i < many; i++) {
+                    notAbove += row[i] <= middle ? 1 : 0;
+                }
+                if (2 * notAbove >= many) {
                     most = middle;
                 } else {
                     least = middle + 1;
@@ -1227,33 +1213,24 @@ public final class NailStain {
             return least;
         }
 
-        private int notAbove(int a, int b, int which, int bound) {
-            int found = 0;
-            for (int rivet = 0; rivet < RIVETS_MOST; rivet++) {
-                found += bothMark(a, b, rivet) && between(a, b, rivet, which) <= bound ? 1 : 0;
-            }
-            return found;
-        }
-
         int rest(int a, int b, int which) {
-            int shift = shift(a, b, which);
+            int common = gather(a, b, which, gaps);
+            int median = lowerMedian(gaps, common);
             int sum = 0;
-            for (int rivet = 0; rivet < RIVETS_MOST; rivet++) {
-                if (bothMark(a, b, rivet)) {
-                    sum += Math.abs(between(a, b, rivet, which) - shift);
-                }
+            for (int i = 0; i < common; i++) {
+                sum += Math.abs(gaps[i] - median);
             }
             return sum;
         }
 
         int farther(int a, int b, int much) {
-            int shiftAcross = shift(a, b, 0);
-            int shiftDeep = shift(a, b, 1);
+            int common = gather(a, b, 0, gaps);
+            gather(a, b, 1, deepGaps);
+            int median = lowerMedian(gaps, common);
+            int deepMedian = lowerMedian(deepGaps, common);
             int found = 0;
-            for (int rivet = 0; rivet < RIVETS_MOST; rivet++) {
-                if (bothMark(a, b, rivet)
-                        && (Math.abs(between(a, b, rivet, 0) - shiftAcross) > much
-                        || Math.abs(between(a, b, rivet, 1) - shiftDeep) > much)) {
+            for (int i = 0; i < common; i++) {
+                if (Math.abs(gaps[i] - median) > much || Math.abs(deepGaps[i] - deepMedian) > much) {
                     found++;
                 }
             }
@@ -1261,8 +1238,12 @@ public final class NailStain {
         }
 
         int distance(int drawing, int third, int rivet) {
-            return Math.abs(between(drawing, third, rivet, 0) - shift(drawing, third, 0))
-                    + Math.abs(between(drawing, third, rivet, 1) - shift(drawing, third, 1));
+            int sum = 0;
+            for (int which = 0; which < 2; which++) {
+                int gap = at(third, rivet, which) - at(drawing, rivet, which);
+                sum += Math.abs(gap - shift(drawing, third, which));
+            }
+            return sum;
         }
     }
 
