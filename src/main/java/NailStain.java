@@ -460,7 +460,6 @@ public final class NailStain {
         if (!within(v, 1, STRENGTH_MOST) || !within(wet, 0, WET_MOST)) {
             return NONE;
         }
-        Arrays.fill(stainLetters, 0);
         stainLetters['n' - 'a'] = ship.stations;
         stainLetters['k' - 'a'] = ship.strakes;
         stainLetters['w' - 'a'] = wet;
@@ -1496,7 +1495,6 @@ public final class NailStain {
         }
 
         private void measure(int strake, int apart) {
-            lengthTo[0] = 0;
             for (int station = 1; station < ship.stations; station++) {
                 int aside = lines.lineAt(strake, station) - lines.lineAt(strake, station - 1);
                 lengthTo[station] = lengthTo[station - 1] + root(apart * apart + aside * aside);

@@ -7,6 +7,7 @@ public final class DrawingsTest {
         mark();
         draw();
         drawByLuck();
+        drawByLeastLuck();
         joined();
         joinedOfMany();
         off();
@@ -97,6 +98,20 @@ public final class DrawingsTest {
         }
     }
 
+    private static void drawByLeastLuck() {
+        NailStain x = new NailStain();
+        x.build(24, 8);
+        x.drawing(1);
+        DUES.due("all of the greatest ship", x.draw(0, 0, 0, 0), 384);
+        DUES.due("the last one", x.marked(0, 23, 7, 1, 0), 0);
+        x.seed(1);
+        x.draw(0, 0, 0, 22);
+        DUES.due("luck 22 is not below 22", x.marked(0, 0, 0, 0, 0), 0);
+        x.seed(1);
+        x.draw(0, 0, 0, 23);
+        DUES.due("luck 22 is below 23", x.marked(0, 0, 0, 0, 0), 50);
+    }
+
     private static NailStain two() {
         NailStain x = new NailStain();
         x.build(5, 1);
@@ -161,6 +176,9 @@ public final class DrawingsTest {
         DUES.due("off by more than 39", x.off(0, 1, 39), 1);
         DUES.due("off by more than 40", x.off(0, 1, 40), 0);
         DUES.due("off the other way round", x.off(1, 0, 39), 1);
+        x.mark(1, 0, 0, 0, 107, 9);
+        DUES.due("the first one, too", x.off(0, 1, 40), 1);
+        x.mark(1, 0, 0, 0, 7, 9);
         DUES.due("much 12000", x.off(0, 1, 12000), 0);
         DUES.due("much 12001", x.off(0, 1, 12001), -1);
         DUES.due("much -1", x.off(0, 1, -1), -1);
@@ -186,6 +204,7 @@ public final class DrawingsTest {
         DUES.due("the second", x.slipped(0, 1, 2, 2, 0, 0), 1);
         DUES.due("as far", x.slipped(0, 1, 2, 3, 0, 0), 2);
         DUES.due("neither", x.slipped(0, 1, 2, 4, 0, 0), 2);
+        DUES.due("of the first one", x.slipped(0, 1, 2, 0, 0, 0), 2);
         DUES.due("no mark", x.slipped(0, 1, 2, 4, 0, 1), -1);
         DUES.due("a twice", x.slipped(0, 0, 2, 1, 0, 0), -1);
         DUES.due("c is a", x.slipped(0, 1, 0, 1, 0, 0), -1);

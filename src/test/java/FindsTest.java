@@ -6,6 +6,7 @@ public final class FindsTest {
         size();
         sizeOfSixty();
         repairs();
+        repairsByTheUsual();
         repairsOfSixty();
         thole();
         pair();
@@ -76,6 +77,8 @@ public final class FindsTest {
         reckonByHand(x);
         // By more than 4 odd are 20 and 21: all but 6 of 56.
         repairsOf(x, 0, 4, new long[] {1, 5, 25, 28});
+        // From 9, 20 would not be farther than 11.
+        repairsOf(x, 0, 11, new long[] {1, 5, 25, 28});
         DUES.due("strake 3", x.repairs(3, 0, 0), -1);
         DUES.due("strake -1", x.repairs(-1, 0, 0), -1);
         DUES.due("much 100", x.repairs(0, 100, 0), -1);
@@ -84,6 +87,24 @@ public final class FindsTest {
         DUES.due("what -1", x.repairs(0, 0, -1), -1);
         repairsOf(x, 2, 0, new long[] {0, 0, 1, 1});
         repairsOf(x, 0, 99, new long[] {0, 5, 1, 1});
+    }
+
+    private static void repairsByTheUsual() {
+        NailStain x = new NailStain();
+        x.build(4, 1);
+        x.size(0, 0, 0, 99);
+        repairsOf(x, 0, 0, new long[] {0, 1, 1, 1});
+        x.size(1, 0, 0, 2);
+        repairsOf(x, 0, 96, new long[] {1, 2, 1, 1});
+        x.size(1, 0, 1, 1);
+        repairsOf(x, 0, 1, new long[] {1, 3, 1, 1});
+        repairsOf(x, 0, 0, new long[] {2, 3, 1, 1});
+        x.size(2, 0, 0, 2);
+        repairsOf(x, 0, 0, new long[] {2, 4, 1, 1});
+        x.size(1, 0, 0, 0);
+        x.size(2, 0, 0, 0);
+        x.size(2, 0, 1, 99);
+        repairsOf(x, 0, 97, new long[] {1, 3, 1, 1});
     }
 
     private static void reckonByHand(NailStain x) {
@@ -154,6 +175,14 @@ public final class FindsTest {
         oars(x, 0, 5, 1, 1);
         x.cut(0);
         oars(x, 1, 5, 3, 3);
+        x.build(24, 1);
+        for (int f = 0; f < 24; f++) {
+            x.thole(f, 0, 1);
+            x.thole(f, 1, 1);
+        }
+        oars(x, 24, 24, 48, 48);
+        x.thole(23, 1, 0);
+        oars(x, 23, 23, 48, 47);
     }
 
     private static void pairIs(NailStain x, int station, long above, long below) {
@@ -273,6 +302,7 @@ public final class FindsTest {
             }
         }
         DUES.due("of one", x.odds(3), 1000000000000000000L);
+        DUES.due("of the first", x.odds(0), 1000000000000000000L);
         DUES.due("of all", x.odds(-1), 6000000000000000000L);
         x.story(3, 2, 700);
         DUES.due("of one then", x.odds(3), 700000000000000000L);

@@ -151,6 +151,9 @@ public final class HullTest {
         jointsAre(x, 0, 39, 2, 5);
         jointsAre(x, 0, 10, 1, 2, 3, 4, 5, 6, 7);
         jointsAre(x, 0, 100000);
+        x.pitch(1);
+        jointsAre(x, 0, 1, 1, 2, 3, 4, 5, 6, 7);
+        x.pitch(10);
         DUES.due("most 9", x.joints(0, 0, 9, -1), -2);
         DUES.due("most 9, joint 0", x.joints(0, 0, 9, 0), -2);
         DUES.due("most 0", x.joints(0, 0, 0, -1), -3);
@@ -165,6 +168,7 @@ public final class HullTest {
         jointsAre(bent, 0, 90, 2);
         jointsAre(bent, 0, 130, 1);
         jointsAre(bent, 0, 89, 1, 2);
+        DUES.due("the first plank is too long", Dues.shipOf(0, 900, 900, 900).joints(0, 0, 300, -1), -2);
     }
 
     private static void jointsInTurn() {

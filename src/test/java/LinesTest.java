@@ -117,6 +117,13 @@ public final class LinesTest {
         NailStain y = Dues.shipOf(0, 5, 5, 5, 0);
         y.lies(2, 0, 1, 0, 0);
         row("one is free", y, 0, 25 + 25, 0, 5, 5, 5, 0);
+        NailStain middle = Dues.shipOf(-3, 0, 0, 0, 0);
+        middle.lies(2, 0, 1, 1, 0);
+        row("0 and 1 in the middle are alike", middle, 0, 9, -3, 0, 0, 0, 0);
+        NailStain first = Dues.shipOf(0, 10, 10);
+        first.lies(0, 0, 1, 10, 0);
+        row("the first is wider than the next", first, 0, 0, 10, 10, 10);
+        row("all but the next at the low end", Dues.shipOf(10, 0, 10), 3, 64, 7, 3, 7);
     }
 
     private static void battenFarOut() {
@@ -175,6 +182,7 @@ public final class LinesTest {
         DUES.due("strake 1", x.lost(1, 0, 1), -1);
         DUES.due("out 41", x.lost(0, 41, 1), -1);
         DUES.due("just at 0", Dues.shipOf(6, 8, 5).lost(0, 0, 0), 3);
+        DUES.due("1 by 7", Dues.shipOf(1, 8, 5).lost(0, 0, 0), 1);
         DUES.due("5 by 3", Dues.shipOf(6, 8, 5).lost(0, 0, 1), 2);
         DUES.due("it is 0", Dues.shipOf(0, 8, -5).lost(0, 0, 0), 0);
         DUES.due("it is below", Dues.shipOf(0, 8, -5).lost(0, 0, 1), 0);

@@ -168,6 +168,25 @@ public final class ShipTest {
             DUES.due("z " + i, x.rivet(i / 4, i / 2 % 2, i % 2, 1), gone ? 0 : i / 4 * 100 + i / 2 % 2 * 10 + i % 2);
         }
         DUES.due("left", x.count(2), left);
+        Dues.sand(x, "g22(1=1)");
+        x.build(3, 1);
+        x.seed(1);
+        x.bury(1);
+        DUES.due("luck 22 is not below 22", x.rivet(0, 0, 0, 2), 0);
+        Dues.sand(x, "g23(1=1)");
+        x.build(3, 1);
+        x.seed(1);
+        x.bury(1);
+        DUES.due("luck 22 is below 23", x.rivet(0, 0, 0, 2), 1);
+        int unlucky = 0;
+        while (after(unlucky, 1) % 1000 != 0) {
+            unlucky++;
+        }
+        Dues.sand(x, "g0-1(1=1)");
+        x.build(3, 1);
+        x.seed(unlucky);
+        x.bury(1);
+        DUES.due("luck 0 is not below 0", x.rivet(0, 0, 0, 2), 0);
         Dues.sand(x, "g2000(1=1)");
         DUES.due("all go", x.bury(1), 0);
         x.build(3, 1);

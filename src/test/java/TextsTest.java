@@ -94,6 +94,7 @@ public final class TextsTest {
     }
 
     private static void faultsOfPlace() {
+        fault("y", -1001);
         fault(" y1(1=1)", -1000);
         fault("Y1(1=1)", -1000);
         fault("y 1(1=1)", -1001);
@@ -165,6 +166,9 @@ public final class TextsTest {
         fault("y[[[[[[1[", -1008);
         fault("y[[[[[[!", -1007);
         fault("y1((((((1=1(", -1011);
+        NailStain x = new NailStain();
+        DUES.due("a fault in the depth", Dues.rule(x, "y1(((((("), -1008);
+        DUES.due("nothing is open then", Dues.rule(x, "y[[[[[[1]]]]]]((((((1=1))))))"), 1);
     }
 
     /** What the rule makes of an E, at station 2 of 5, strake 1 of 3, side 1. */
