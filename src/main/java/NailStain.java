@@ -1250,6 +1250,8 @@ public final class NailStain {
     private static final class Lines {
         private static final int SPAN_MOST = 60;
         private static final int WIDE = SPAN_MOST + 1;
+        // No row of 24 stations between -3040 and 3040 is bent as much as that.
+        private static final long BENT_BEYOND = 1L << 40;
 
         private final Ship ship;
         private final int[] low = new int[STATIONS_MOST];
@@ -1383,7 +1385,7 @@ public final class NailStain {
 
         private void choose(int station, int first, int second, int from, int to) {
             int straight = low[station] + first - 2 * (low[station + 1] + second) + low[station + 2];
-            long least = Long.MAX_VALUE;
+            long least = BENT_BEYOND;
             int best = from;
             for (int third = from; third <= to; third++) {
                 long bent = straight + third;
@@ -1398,7 +1400,7 @@ public final class NailStain {
         }
 
         private void follow(int strake) {
-            long least = Long.MAX_VALUE;
+            long least = BENT_BEYOND;
             int first = 0;
             int second = 0;
             for (int i = 0; i < wide(0); i++) {
