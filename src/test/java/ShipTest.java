@@ -110,6 +110,9 @@ public final class ShipTest {
         x.bury(1);
         DUES.due("the mound stays", x.rivet(0, 0, 0, 1), 9);
         DUES.no("a station beyond", x.gone(3, 0, 0));
+        Dues.rule(x, "y5+y+z+m+x(1=1)");
+        x.build(3, 1);
+        DUES.due("what the sand left in its letters is not the rule's", x.rivet(0, 0, 0, 0), 5);
     }
 
     private static void mound() {
