@@ -37,6 +37,7 @@ public final class NailStain {
     private static final int OUT_MOST = 40;
     private static final int SIZE_MOST = 99;
     private static final int SIZED_MOST = 60;
+    private static final int HEIGHT_MOST = 200;
     private static final int WEIGHT_MOST = 2000000000;
     private static final int PLANK_MOST = 100000;
     private static final int STRENGTH_MOST = 10000;
@@ -408,21 +409,24 @@ public final class NailStain {
     }
 
     public long area(int station, int height, int out, int w) {
-        if (!within(station, 0, ship.stations - 1) || !within(w, 0, ship.strakes - 1) || !hull.isTold(height, out)) {
+        if (!within(station, 0, ship.stations - 1) || !within(w, 0, ship.strakes - 1)
+                || !within(height, 1, HEIGHT_MOST) || !hull.isToldUpTo(ship.strakes - 1, out)) {
             return -1;
         }
         return hull.section(station, height, w);
     }
 
     public long volume(int height, int out, int w) {
-        if (!within(w, 0, ship.strakes - 1) || !hull.isTold(height, out)) {
+        if (!within(w, 0, ship.strakes - 1) || !within(height, 1, HEIGHT_MOST)
+                || !hull.isToldUpTo(ship.strakes - 1, out)) {
             return -1;
         }
         return hull.room(height, w, apart);
     }
 
     public int depth(int height, int out, int weight) {
-        if (!within(weight, 0, WEIGHT_MOST) || !hull.isTold(height, out)) {
+        if (!within(weight, 0, WEIGHT_MOST) || !within(height, 1, HEIGHT_MOST)
+                || !hull.isToldUpTo(ship.strakes - 1, out)) {
             return NONE;
         }
         return hull.leastLine(height, weight, apart);
@@ -443,12 +447,12 @@ public final class NailStain {
     }
 
     public int joints(int strake, int out, int most, int what) {
-        if (!within(strake, 0, ship.strakes - 1) || !within(most, 1, PLANK_MOST) || what < NONE) {
+        // What is not told refuses the call, even where a strake below it can't be laid.
+        if (!within(most, 1, PLANK_MOST) || what < NONE || !hull.isToldUpTo(strake, out)) {
             return NOT_LAID;
         }
-        int trouble = hull.layUpTo(strake, out, most, apart);
-        if (trouble != 0) {
-            return trouble;
+        if (!hull.layUpTo(strake, most, apart)) {
+            return NOT_ENOUGH;
         }
         if (what == NONE) {
             return hull.meetings;
@@ -1434,7 +1438,6 @@ public final class NailStain {
 
     /** The lines of all strakes as a hull: what room is below a water line, and planks to build her anew. */
     private static final class Hull {
-        private static final int HEIGHT_MOST = 200;
         private static final int NEVER = 1000;
 
         private final Ship ship;
@@ -1450,12 +1453,13 @@ public final class NailStain {
             this.lines = lines;
         }
 
-        boolean isTold(int height, int out) {
-            if (!ship.stands() || !within(height, 1, HEIGHT_MOST)) {
+        /** Are the lines of all strakes told, from the keel up to this one? */
+        boolean isToldUpTo(int strake, int out) {
+            if (!within(strake, 0, ship.strakes - 1)) {
                 return false;
             }
-            for (int strake = 0; strake < ship.strakes; strake++) {
-                if (!lines.fits(strake, out)) {
+            for (int i = 0; i <= strake; i++) {
+                if (!lines.fits(i, out)) {
                     return false;
                 }
             }
@@ -1503,22 +1507,19 @@ public final class NailStain {
             }
         }
 
-        /** Lays all strakes from the keel up to this one: 0, or why it can't. */
-        int layUpTo(int strake, int out, int most, int apart) {
+        /** Lays all strakes from the keel up to this one by lines that are told: can it be? */
+        boolean layUpTo(int strake, int most, int apart) {
             meetings = 0;
             for (int i = 0; i <= strake; i++) {
-                if (!lines.fits(i, out)) {
-                    return NOT_LAID;
-                }
                 measure(i, apart);
                 barNearMeetings();
                 reckonNeeded(most);
                 if (needed[0] >= NEVER) {
-                    return NOT_ENOUGH;
+                    return false;
                 }
                 joinPlanks(most);
             }
-            return 0;
+            return true;
         }
 
         private void barNearMeetings() {

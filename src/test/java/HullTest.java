@@ -11,6 +11,7 @@ public final class HullTest {
         joints();
         jointsInTurn();
         jointsNotToBe();
+        jointsNotTold();
         lasts();
         lastsByLetters();
         check();
@@ -194,7 +195,32 @@ public final class HullTest {
         jointsAre(x, 0, 30, 1);
         DUES.due("not told", x.joints(1, 0, 30, -1), -3);
         DUES.due("one below is not told", x.joints(2, 0, 30, -1), -3);
-        DUES.due("what can't be comes first in turn", x.joints(2, 0, 9, -1), -2);
+    }
+
+    /** A call that is refused is so wherever its strake's line or one below is not told: -2 is for the others. */
+    private static void jointsNotTold() {
+        NailStain x = level(5, 4);
+        x.lies(0, 2, 0, 61, 0);
+        DUES.due("the keel can't be", x.joints(0, 0, 9, -1), -2);
+        DUES.due("one that is told can't be", x.joints(1, 0, 9, 0), -2);
+        DUES.due("not told, and the keel can't be", x.joints(2, 0, 9, -1), -3);
+        DUES.due("one below is not told, and the keel can't be", x.joints(3, 0, 9, 0), -3);
+        DUES.due("barred by the one below", x.joints(1, 0, 20, -1), -2);
+        DUES.due("not told, and one below is barred", x.joints(2, 0, 20, -1), -3);
+        x.lies(0, 2, 0, 60, 0);
+        DUES.due("told, and the keel can't be", x.joints(2, 0, 9, -1), -2);
+        DUES.due("no such joint, and the keel can't be", x.joints(2, 0, 9, 30), -2);
+        DUES.due("no such out, and the keel can't be", x.joints(2, 41, 9, -1), -3);
+        DUES.due("no such what, and the keel can't be", x.joints(2, 0, 9, -2), -3);
+        DUES.due("farther out it is not told", x.joints(2, 1, 9, -1), -3);
+        DUES.due("and told again", x.joints(3, 0, 9, -1), -2);
+        x.gone(0, 2, 0);
+        jointsAre(x, 2, 30, 1);
+        for (int f = 0; f < 5; f++) {
+            x.gone(f, 3, 0);
+            x.gone(f, 3, 1);
+        }
+        DUES.due("nothing is seen, and the keel can't be", x.joints(3, 0, 9, -1), -3);
     }
 
     private static void lasts() {

@@ -708,12 +708,15 @@ final class SlowStain {
         if (out(strake, 0, strakes - 1) || out(most, 1, 100000) || what < -1) {
             return -3;
         }
-        List<Integer> below = List.of();
+        List<int[]> rows = new ArrayList<>();
         for (int s = 0; s <= strake; s++) {
-            int[] row = row(s, out);
-            if (row == null) {
+            if (row(s, out) == null) {
                 return -3;
             }
+            rows.add(row(s, out));
+        }
+        List<Integer> below = List.of();
+        for (int[] row : rows) {
             List<Integer> found = null;
             for (int many = 0; many < stations && found == null; many++) {
                 found = lay(row, 0, many, most, below, new HashMap<>());
