@@ -11,6 +11,14 @@ final class Dues {
         }
     }
 
+    int asked() {
+        return asked;
+    }
+
+    int wrong() {
+        return wrong;
+    }
+
     void yes(String call, boolean got) {
         due(call, got ? 1 : 0, 1);
     }
@@ -60,6 +68,24 @@ final class Dues {
         x.build(ys.length, 1);
         strake(x, 0, ys);
         return x;
+    }
+
+    /** X some times on, as the terms tell it. */
+    static int chance(int x, int times) {
+        long chance = x;
+        for (int i = 0; i < times; i++) {
+            chance = (25173 * chance + 13849) % 65536;
+        }
+        return (int) chance;
+    }
+
+    /** The least seed whose first luck is this. */
+    static int seedOf(int luck) {
+        int seed = 0;
+        while (chance(seed, 1) % 1000 != luck) {
+            seed++;
+        }
+        return seed;
     }
 
     static void strake(NailStain x, int strake, int... ys) {
