@@ -22,6 +22,8 @@ public final class BoundsTest {
         finds();
         hull();
         withoutShip();
+        full();
+        butTheTape();
         all();
         DUES.end("BoundsTest");
     }
@@ -146,7 +148,71 @@ public final class BoundsTest {
     }
 
     private static void noShip(String name, long refusal, int... numbers) throws ReflectiveOperationException {
-        new Bounds(Views::withoutShip, name, refusal, numbers).refuses(numbers);
+        refused(Views::withoutShip, name, refusal, numbers);
+    }
+
+    private static void refused(Supplier<NailStain> ready, String name, long refusal, int... numbers)
+            throws ReflectiveOperationException {
+        new Bounds(ready, name, refusal, numbers).refuses(numbers);
+    }
+
+    /** Calls that what is there already, or not yet, refuses. */
+    private static void full() throws ReflectiveOperationException {
+        refused(BoundsTest::withFullTape, "feed", -1, 1, 2, 3, 4, 5);
+        refused(() -> Views.withShip(4), "drawing", -1, 1939);
+        refused(() -> Views.withShip(4), "gone", 0, 3, 1, 1);
+        refused(() -> Views.withShip(0), "mark", 0, 0, 1, 1, 1, 5, 5);
+        refused(() -> Views.withShip(0), "draw", -1, 0, 5, 5, 500);
+        refused(() -> Views.withShip(0), "marked", -10000, 0, 1, 1, 1, 0);
+        refused(() -> Views.withShip(1), "joined", -1000000, 0, 1, 2);
+        refused(() -> Views.withShip(1), "off", -1, 0, 1, 5);
+        refused(() -> Views.withShip(2), "slipped", -1, 0, 1, 2, 1, 1, 1);
+        refused(BoundsTest::withSixtySizes, "size", 0, 15, 0, 0, 5);
+        refused(BoundsTest::withAllCut, "check", -2, 0, 0, 5);
+        refused(BoundsTest::withAllCut, "check", -2, 0, 0, 0);
+        refused(BoundsTest::withAllCut, "depth", -1, 10, 0, 0);
+        refused(NailStain::new, "rule", -1, 1);
+        refused(NailStain::new, "sand", -1, 1);
+        refused(NailStain::new, "stain", -1, 1);
+        refused(NailStain::new, "check", -2, 0, 0, 1);
+        refused(NailStain::new, "odds", -1, 0);
+        refused(NailStain::new, "next", -1, 0);
+    }
+
+    private static NailStain withAllCut() {
+        NailStain x = Views.withShip(4);
+        x.cut(15);
+        return x;
+    }
+
+    private static NailStain withSixtySizes() {
+        NailStain x = new NailStain();
+        x.build(24, 2);
+        for (int i = 0; i < 60; i++) {
+            x.size(i / 4, i / 2 % 2, i % 2, 5);
+        }
+        return x;
+    }
+
+    /** A fault and a check take the tape, and nothing else. */
+    private static void butTheTape() throws ReflectiveOperationException {
+        takesTheTape("rule", -1019, 19);
+        takesTheTape("sand", -1000, 20);
+        takesTheTape("stain", -1000, 1);
+        takesTheTape("check", 0, 1, 0, 5);
+        takesTheTape("check", 0, 1, 0, 0);
+    }
+
+    private static void takesTheTape(String name, long answer, int... numbers) throws ReflectiveOperationException {
+        Bounds call = new Bounds(() -> Views.withShip(4), name, -1, numbers);
+        NailStain x = Views.withShip(4);
+        NailStain y = Views.withShip(4);
+        DUES.due(name, call.call(x, numbers), answer);
+        DUES.due(name, call.call(y, numbers), answer);
+        List<Long> seen = Views.seen(Views.withShipAndEmptyTape(4));
+        List<Long> seenBehind = Views.seenBehind(Views.withShipAndEmptyTape(4));
+        DUES.yes(name + " takes the tape alone", Views.seen(x).equals(seen));
+        DUES.yes(name + " takes the tape alone, and nothing behind", Views.seenBehind(y).equals(seenBehind));
     }
 
     private static void all() {

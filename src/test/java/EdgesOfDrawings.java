@@ -220,12 +220,13 @@ final class EdgesOfDrawings {
             joins(x, 5, 13);
             x.mark(1, 4, 0, 0, 900, -900);
             joins(x, 5, 908);
-            x.mark(1, 5, 0, 0, 901, -901);
+            x.mark(1, 5, 0, 0, 901, -931);
             joins(x, 5, 1804);
             dues.due("z likewise", x.joined(0, 1, 1), -6);
-            dues.due("left of z", x.joined(0, 1, 4), 1804);
+            dues.due("left of z", x.joined(0, 1, 4), 1834);
             dues.due("the other way round, the least", x.joined(1, 0, 0), -6);
             dues.due("the other way round, as much is left", x.joined(1, 0, 3), 1804);
+            dues.due("the other way round, as much of z", x.joined(1, 0, 4), 1834);
         });
         document.promise(19, "what 0 the shift of y (of the second from the first), 1 that of z, 2 n, 3, 4 what is left, together,"
                 + " in y, in z", () -> {
@@ -354,6 +355,10 @@ final class EdgesOfDrawings {
             dues.due("the third has one of another", x.slipped(0, 1, 2, 2, 0, 0), -1);
             x.mark(2, 2, 0, 0, 1, 1);
             who(x, 2);
+            for (int k = 0; k < 3; k++) {
+                x.mark(k, 0, 0, 0, 1, 1);
+            }
+            dues.due("of the first rivet", x.slipped(0, 1, 2, 0, 0, 0), 2);
             dues.due("none of the other side", x.slipped(0, 1, 2, 2, 0, 1), -1);
             int[][] refused = {{0, 0, 2, 2, 0, 0}, {0, 1, 1, 2, 0, 0}, {0, 1, 0, 2, 0, 0}, {1, 1, 1, 2, 0, 0},
                 {-1, 1, 2, 2, 0, 0}, {0, -1, 2, 2, 0, 0}, {0, 1, -1, 2, 0, 0}, {3, 1, 2, 2, 0, 0}, {0, 3, 2, 2, 0, 0},

@@ -104,6 +104,9 @@ final class EdgesOfFinds {
             x.gone(0, 0, 1);
             x.cut(2);
             oddIs(x, 1, 48, 1, 2);
+            for (int usual = 1; usual < 100; usual++) {
+                oneUsual(usual);
+            }
         });
         document.term("ODDS that by lot as many of those RIVETS with a SIZE that are of a STRAKE or more would be ODD: a fraction.",
                 () -> {
@@ -128,6 +131,18 @@ final class EdgesOfFinds {
             fractionIs(x, 1, 9, 1, 1);
             fractionIs(x, 0, 9, 1, 1);
         });
+    }
+
+    /** Two of one size, and one each of the least and the greatest. */
+    private void oneUsual(int usual) {
+        NailStain x = new NailStain();
+        x.build(3, 1);
+        x.size(0, 0, 0, 1);
+        x.size(0, 0, 1, 99);
+        x.size(1, 0, 0, usual);
+        x.size(1, 0, 1, usual);
+        dues.due("most have " + usual, x.repairs(0, 0, 0), usual == 1 || usual == 99 ? 1 : 2);
+        dues.due("farther than the least is", x.repairs(0, usual - 1, 0), 99 - usual > usual - 1 ? 1 : 0);
     }
 
     private void fractionIs(NailStain x, int strake, int much, long above, long below) {

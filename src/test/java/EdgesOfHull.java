@@ -232,6 +232,10 @@ final class EdgesOfHull {
             jointsAre(far, 0, 11999, 1);
             jointsAre(far, 0, 6000, 1);
             dues.due("5999", far.joints(0, 0, 5999, -1), -2);
+            NailStain first = Dues.shipOf(900, 0, 0, 0);
+            dues.due("the first plank is too long", first.joints(0, 0, 300, -1), -2);
+            NailStain last = Dues.shipOf(0, 0, 0, 900);
+            dues.due("the last plank is too long", last.joints(0, 0, 300, -1), -2);
             NailStain longest = new NailStain();
             Dues.rule(longest, "y0-3000(f%2=0);y3000(1=1)");
             longest.build(24, 1);

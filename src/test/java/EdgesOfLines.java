@@ -97,6 +97,16 @@ final class EdgesOfLines {
             wide.lies(2, 0, 1, 60, 0);
             spanIs(wide, 1, 0, 0, 60);
             dues.due("62 wide by out 1", wide.span(0, 1, 1, 0), -10000);
+            NailStain big = new NailStain();
+            Dues.rule(big, "yf(1=1)");
+            big.build(24, 1);
+            big.cut(0xfffffe);
+            spanIs(big, 23, 2, -2, 2);
+            big.cut(0x7fffff);
+            spanIs(big, 0, 2, 21, 25);
+            big.cut(0x7ffffe);
+            spanIs(big, 1, 0, 0, 23);
+            spanIs(big, 22, 0, 0, 23);
         });
     }
 
@@ -153,12 +163,17 @@ final class EdgesOfLines {
             NailStain odd = Dues.shipOf(0, 0, 1);
             odd.lies(1, 0, 1, 1, 0);
             rowIs(odd, 0, 1, 0, 0, 1);
+            NailStain third = Dues.shipOf(-3, 0, 0, 0, 0);
+            third.lies(2, 0, 1, 1, 0);
+            // With 0 in the middle the squares are 9, 0, 0; with 1 they are 4, 4, 1.
+            rowIs(third, 0, 9, -3, 0, 0, 0, 0);
             NailStain end = Dues.shipOf(0, 5, 10);
             end.lies(0, 0, 1, 60, 0);
             rowIs(end, 0, 0, 0, 5, 10);
             NailStain unseen = Dues.shipOf(0, 0, 20, 30);
             unseen.cut(2);
             rowIs(unseen, 0, 0, 0, 10, 20, 30);
+            straightThroughTheWidest();
         });
         document.promise(23, "what NONE the squares together, else y of STATION what; -1000000: none is told, no such ones.", () -> {
             NailStain x = new NailStain();
@@ -178,6 +193,22 @@ final class EdgesOfLines {
             dues.due("no squares are told", x.batten(0, 0, -1), -1000000);
             dues.due("no y is told", x.batten(0, 0, 0), -1000000);
         });
+    }
+
+    /** Both ends are told, so that one row alone is straight; it goes through spans of 60 now low, now high. */
+    private void straightThroughTheWidest() {
+        NailStain x = new NailStain();
+        x.build(24, 1);
+        for (int f = 0; f < 24; f++) {
+            boolean isEnd = f == 0 || f == 23;
+            int low = isEnd ? 7 * f : 7 * f - f * 13 % 61;
+            x.lies(f, 0, 0, low, 0);
+            x.lies(f, 0, 1, isEnd ? low : low + 60, 0);
+        }
+        dues.due("straight", x.batten(0, 0, -1), 0);
+        for (int f = 0; f < 24; f++) {
+            dues.due("straight at " + f, x.batten(0, 0, f), 7 * f);
+        }
     }
 
     private void lost() {
@@ -220,7 +251,9 @@ final class EdgesOfLines {
 
     /** An end at y, the next one in at another: what is lost beyond the first end, and the same way beyond the last. */
     private void lostIs(int last, int inner, int first, int end) {
-        dues.due(last + " by " + inner + " ahead", Dues.shipOf(last, inner, inner, inner).lost(0, 0, 0), first);
-        dues.due(last + " by " + inner + " beyond", Dues.shipOf(inner, inner, inner, last).lost(0, 0, 1), end);
+        NailStain ahead = Dues.shipOf(last, inner, -2000, 1500, 700);
+        NailStain beyond = Dues.shipOf(700, 1500, -2000, inner, last);
+        dues.due(last + " by " + inner + " ahead", ahead.lost(0, 0, 0), first);
+        dues.due(last + " by " + inner + " beyond", beyond.lost(0, 0, 1), end);
     }
 }

@@ -158,6 +158,8 @@ final class EdgesOfShip {
             dues.due("tholes", x.oars(2), 0);
             dues.due("room for a drawing", x.drawing(2), 0);
             dues.due("without marks", x.marked(0, 2, 0, 1, 0), -10000);
+            dues.due("none of the first rivet", x.marked(0, 0, 0, 0, 0), -10000);
+            dues.due("none at all", x.count(10), 0);
             dues.due("the greatest ship again", x.build(24, 8), 384);
             dues.due("its rivets", x.count(2), 384);
             dues.due("its last size", x.rivet(23, 7, 1, 3), 0);

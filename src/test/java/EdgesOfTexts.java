@@ -238,6 +238,9 @@ final class EdgesOfTexts {
                 is(a + "<5", a < 5);
                 is(a + ">5", a > 5);
                 is(a + "=5", a == 5);
+                is("!" + a + "<5", a >= 5);
+                is("!" + a + ">5", a <= 5);
+                is("!" + a + "=5", a != 5);
             }
         });
     }
@@ -412,6 +415,8 @@ final class EdgesOfTexts {
         });
         document.term("Of a C as much is asked, from the left, as matters.", () -> {
             is("1=1|5/0=0", true);
+            is("1<2|5/0=0", true);
+            is("2>1|5/0=0", true);
             is("5/0=0|1=1", false);
             is("1=2&5/0=0|1=1", true);
             is("1=1&5/0=0|1=1", false);
@@ -530,6 +535,8 @@ final class EdgesOfTexts {
             answers("y[[[[[[f]]]]]](((((((f=f)))))))", -5020);
             answers("y[[[[[[!", -1007);
             answers("y[[[[[[(", -1007);
+            answers("y1((((((f=f))))));z[[[[[[f]]]]]](!!!!!f=f);y1(!!!!!f=f)", 3);
+            answers("y1(f=f);z1(!!!!!!f=f)", -5016);
         });
     }
 
@@ -624,6 +631,11 @@ final class EdgesOfTexts {
         dues.due("nothing is left to read", first(which, x, 1), -1);
         dues.due("in place of those", effect(which, x), 9);
         dues.due("one clause", x.count(5 + which), 1);
+        for (int i = 0; i < 60; i++) {
+            int e = i % 2 == 0 ? 5 : 9;
+            read(which, x, letter + "1+1(1=2|f+s+d>99&1=1);" + letter + e + "*1+0(!1=2&1+1=2)");
+            dues.due("one after another", effect(which, x), e);
+        }
     }
 
     /** What the text of this kind makes of the first rivet, or of a stain of 45. */

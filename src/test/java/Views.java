@@ -13,6 +13,12 @@ final class Views {
 
     /** All but a ship: texts, a mound, phosphor, stories 0, 1 and 5, and a tape of twenty bytes. */
     static NailStain withoutShip() {
+        NailStain x = withEmptyTape();
+        Dues.put(x, ON_THE_TAPE);
+        return x;
+    }
+
+    private static NailStain withEmptyTape() {
         NailStain x = new NailStain();
         x.pitch(90);
         x.seed(777);
@@ -29,13 +35,18 @@ final class Views {
         x.story(5, 5, 700);
         x.sign(3, 0);
         x.sign(5, 1);
-        Dues.put(x, ON_THE_TAPE);
         return x;
     }
 
     /** A ship of four stations by two strakes, both sides at like y; so many drawings have all its rivets. */
     static NailStain withShip(int drawings) {
-        NailStain x = withoutShip();
+        NailStain x = withShipAndEmptyTape(drawings);
+        Dues.put(x, ON_THE_TAPE);
+        return x;
+    }
+
+    static NailStain withShipAndEmptyTape(int drawings) {
+        NailStain x = withEmptyTape();
         x.build(STATIONS, STRAKES);
         x.lies(2, 1, 0, 70, 9);
         x.lies(2, 1, 1, 70, 8);
