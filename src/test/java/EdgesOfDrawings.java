@@ -205,6 +205,20 @@ final class EdgesOfDrawings {
     }
 
     private void joined() {
+        document.term("JOINED: of two DRAWINGS, over RIVETS that both have (n)", () -> {
+            NailStain x = ofStations(3, 2);
+            for (int i = 0; i < 6; i++) {
+                dues.due("before " + i, x.joined(0, 1, 2), Math.max(0, i - 1));
+                x.mark(0, i / 2, 0, i % 2, 1, 1);
+                dues.due("of one alone, " + i, x.joined(0, 1, 2), Math.max(0, i - 1));
+                if (i > 0) {
+                    x.mark(1, i / 2, 0, i % 2, 1, 1);
+                }
+            }
+            dues.due("of all but the first", x.joined(0, 1, 2), 5);
+            x.mark(1, 0, 0, 0, 1, 1);
+            dues.due("of all", x.joined(0, 1, 2), 6);
+        });
         document.term("the shift of y by which the y of the one are nearest to those of the other one, together (how far,"
                 + " without sign): the least such shift; z likewise.", () -> {
             NailStain x = ofStations(6, 2);

@@ -390,6 +390,22 @@ final class EdgesOfFinds {
             x.sign(1, 1);
             dues.due("0 of signs that it was not told of", x.odds(0), 0);
         });
+        document.term("SIGNS were seen (1), were not (0), or are not known (-1, at first).", () -> {
+            NailStain x = new NailStain();
+            for (int i = 0; i < 6; i++) {
+                x.story(0, i, 1);
+            }
+            dues.due("none is known at first", x.odds(0), 1);
+            dues.due("so the first may be next", x.next(0), 0);
+            for (int i = 0; i < 6; i++) {
+                x.sign(i, 0);
+                dues.due("was not", x.odds(0), 999);
+                x.sign(i, 1);
+                dues.due("was seen", x.odds(0), 1);
+                x.sign(i, -1);
+                dues.due("not known", x.odds(0), 1);
+            }
+        });
         document.promise(33, "A SIGN was seen (1), was not (0), is not known (-1): true; false: no such ones.", () -> {
             NailStain x = new NailStain();
             x.story(0, 0, 300);

@@ -345,6 +345,16 @@ final class EdgesOfHull {
             }
             dues.due("all 24", big.check(7, 0, 24), -1);
         });
+        document.promise(43, "by the first n numbers of the tape (four bytes each; empty then)", () -> {
+            NailStain x = Dues.shipOf(258, 258, 258);
+            x.feed(0x00000102, 0x00000102, 0x00000102, 0x02010000, 0x00000201);
+            dues.due("the highest byte first", x.check(0, 0, 3), -1);
+            dues.due("empty then", x.count(4), 0);
+            x.feed(0x02010000, 0x00000102, 0x00000102, 0, 0);
+            dues.due("not the lowest first", x.check(0, 0, 3), 0);
+            dues.due("empty then, too", x.count(4), 0);
+            dues.due("nothing is left", x.check(0, 0, 1), -2);
+        });
         document.promise(43, "NONE: right; else the place of the first number that is not so (n: some are lacking)", () -> {
             NailStain x = Dues.shipOf(1, -2, 3);
             dues.due("none of an empty tape", x.check(0, 0, 0), 0);

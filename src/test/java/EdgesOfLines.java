@@ -212,6 +212,13 @@ final class EdgesOfLines {
     }
 
     private void lost() {
+        document.term("LOST: beyond the last STATION (end 1; or ahead of the first, end 0)", () -> {
+            NailStain x = Dues.shipOf(6, 8, 9, 5);
+            dues.due("end 0", x.lost(0, 0, 0), 3);
+            dues.due("end 1", x.lost(0, 0, 1), 2);
+            dues.due("end 2", x.lost(0, 0, 2), -1);
+            dues.due("end -1", x.lost(0, 0, -1), -1);
+        });
         document.term("by the two last y of THE BATTEN on as straight: how many STATIONS more until y is 0 or below (0: it is); told"
                 + " if y grows less.", () -> {
             lostIs(0, 1, 0, 0);

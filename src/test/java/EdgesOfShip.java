@@ -37,6 +37,7 @@ final class EdgesOfShip {
             dues.due("no sand", x.bury(9), 6);
             dues.due("the seed was 1", x.count(3), Dues.chance(1, 54));
         });
+        document.term("The constants: `NONE = -1`: There is none.", () -> dues.due("NONE", NailStain.NONE, -1));
     }
 
     private void numbers() {

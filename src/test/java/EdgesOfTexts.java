@@ -591,6 +591,14 @@ final class EdgesOfTexts {
     }
 
     private void reading() {
+        document.promise(5, "THE RULE by the first n bytes of the tape (1 to 200; empty then)", () -> {
+            for (int n = 1; n <= 200; n++) {
+                NailStain x = new NailStain();
+                Dues.put(x, "y1(" + "1=1|".repeat(54));
+                dues.due("the first " + n + " of 220", x.rule(n), -1000 - n);
+                dues.due("empty then", x.count(4), 0);
+            }
+        });
         int[] promises = {5, 6, 7};
         String[] words = {"in place of the one before: how many CLAUSES; a FAULT: -1000 times its number, less its place (the"
                 + " TEXT before stays); NONE: no such n, it has not so many (the tape stays).",
