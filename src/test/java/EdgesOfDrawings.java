@@ -132,8 +132,8 @@ final class EdgesOfDrawings {
     }
 
     private void drawn() {
-        document.term("of all RIVETS that are neither GONE nor CUT AWAY: y, z and the shift; by LUCK (X as above, once for each"
-                + " such RIVET, by STATIONS, STRAKES, SIDES) below a told number of thousandths y is 50 more.", () -> {
+        document.term("DRAWN by a told shift and a slip: of all RIVETS that are neither GONE nor CUT AWAY: y, z and the shift; by"
+                + " LUCK (X as above, once for each such RIVET, by STATIONS, STRAKES, SIDES) below a told number of thousandths y is 50 more.", () -> {
             NailStain x = new NailStain();
             x.build(3, 2);
             x.drawing(1);
@@ -242,8 +242,8 @@ final class EdgesOfDrawings {
             dues.due("the other way round, as much is left", x.joined(1, 0, 3), 1804);
             dues.due("the other way round, as much of z", x.joined(1, 0, 4), 1834);
         });
-        document.promise(19, "what 0 the shift of y (of the second from the first), 1 that of z, 2 n, 3, 4 what is left, together,"
-                + " in y, in z", () -> {
+        document.promise(19, "JOINED, what 0 the shift of y (of the second from the first), 1 that of z, 2 n, 3, 4 what is left,"
+                + " together, in y, in z", () -> {
             NailStain x = ofStations(3, 2);
             put(x, 0, 6000, -6000, -6000);
             put(x, 1, -6000, 6000, 6000);

@@ -22,7 +22,7 @@ final class EdgesOfFinds {
     }
 
     private void sizes() {
-        document.term("a RIVET has a SIZE (1 to 99; told, 0: not; 60 RIVETS at most)", () -> {
+        document.term("REPAIRS: a RIVET has a SIZE (1 to 99; told, 0: not; 60 RIVETS at most)", () -> {
             NailStain x = new NailStain();
             x.build(24, 2);
             dues.due("not told at first", x.rivet(0, 0, 0, 3), 0);
@@ -181,8 +181,8 @@ final class EdgesOfFinds {
     }
 
     private void tholes() {
-        document.term("at each STATION and SIDE a thole was SEEN (1), was not there (0), or is not known (-1, at first; CUT AWAY: not"
-                + " known): pairs of oars: the least (both SIDES SEEN), the greatest (neither SIDE not there)", () -> {
+        document.term("OARS: at each STATION and SIDE a thole was SEEN (1), was not there (0), or is not known (-1, at first; CUT AWAY:"
+                + " not known): pairs of oars: the least (both SIDES SEEN), the greatest (neither SIDE not there)", () -> {
             for (int left = -1; left <= 1; left++) {
                 for (int right = -1; right <= 1; right++) {
                     NailStain x = new NailStain();
@@ -242,7 +242,7 @@ final class EdgesOfFinds {
     }
 
     private void pairs() {
-        document.term("ODDS, if each unknown one were so by lot as those known ones are (of known ones so many SEEN): that all of a told"
+        document.term("and ODDS, if each unknown one were so by lot as those known ones are (of known ones so many SEEN): that all of a told"
                 + " STATION's would be", () -> {
             NailStain x = new NailStain();
             x.build(24, 1);
@@ -267,7 +267,8 @@ final class EdgesOfFinds {
             pairIs(x, 23, 1849, 1936);
             pairIs(x, 0, 1849, 1936);
         });
-        document.promise(29, "what 0 above, 1 below the line, without a common divisor; -2: none is known; -1: no such ones.", () -> {
+        document.promise(29, "ODDS that both tholes of a STATION were, what 0 above, 1 below the line, without a common divisor; -2: none"
+                + " is known; -1: no such ones.", () -> {
             NailStain x = new NailStain();
             dues.due("no ship", x.pair(0, 0), -1);
             x.build(3, 1);
@@ -297,7 +298,7 @@ final class EdgesOfFinds {
     }
 
     private void phosphor() {
-        document.term("PHOSPHOR of CELLS (12 by 6; 0 to 999 each; 0 at first)", () -> {
+        document.term("A BODY: PHOSPHOR of CELLS (12 by 6; 0 to 999 each; 0 at first)", () -> {
             NailStain x = new NailStain();
             dues.due("0 at first", x.body(12, 6, 2), 0);
             for (int i = 0; i < 72; i++) {

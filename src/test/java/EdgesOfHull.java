@@ -48,9 +48,9 @@ final class EdgesOfHull {
     }
 
     private void areas() {
-        document.term("(0 the keel, each next one higher by so much: HEIGHT 1 to 200): AREA of a STATION to a water line at so many"
-                + " STRAKES w (0 to all less 1): between neighbouring STRAKES below it the sums of their y times HEIGHT (both SIDES;"
-                + " y below 0 counts 0)", () -> {
+        document.term("WENT: by y of THE BATTEN of all STRAKES (0 the keel, each next one higher by so much: HEIGHT 1 to 200): AREA of a"
+                + " STATION to a water line at so many STRAKES w (0 to all less 1): between neighbouring STRAKES below it the sums"
+                + " of their y times HEIGHT (both SIDES; y below 0 counts 0)", () -> {
             NailStain x = small();
             dues.due("w 0", x.area(0, 200, 0, 0), 0);
             dues.due("w 1", x.area(0, 1, 0, 1), 3);
@@ -176,7 +176,7 @@ final class EdgesOfHull {
     }
 
     private void lengths() {
-        document.term("its LENGTH: between neighbouring STATIONS the root (rounded down) of squares of PITCH and of the difference of y"
+        document.term("PLANKS for a STRAKE: its LENGTH: between neighbouring STATIONS the root (rounded down) of squares of PITCH and of the difference of y"
                 + " of THE BATTEN", () -> {
             NailStain x = Dues.shipOf(0, 4, 0);
             x.pitch(3);
@@ -345,7 +345,7 @@ final class EdgesOfHull {
             }
             dues.due("all 24", big.check(7, 0, 24), -1);
         });
-        document.promise(43, "by the first n numbers of the tape (four bytes each; empty then)", () -> {
+        document.promise(43, "CHECK of a STRAKE by the first n numbers of the tape (four bytes each; empty then)", () -> {
             NailStain x = Dues.shipOf(258, 258, 258);
             x.feed(0x00000102, 0x00000102, 0x00000102, 0x02010000, 0x00000201);
             dues.due("the highest byte first", x.check(0, 0, 3), -1);

@@ -22,8 +22,8 @@ final class EdgesOfLines {
     }
 
     private void spans() {
-        document.term("each STATION has a SPAN: from the least to the greatest y of what is seen there of this STRAKE (both SIDES:"
-                + " RIVETS that are neither GONE nor CUT AWAY), each end so much farther out (0 to 40)", () -> {
+        document.term("LINES: of a STRAKE in y: each STATION has a SPAN: from the least to the greatest y of what is seen there of"
+                + " this STRAKE (both SIDES: RIVETS that are neither GONE nor CUT AWAY), each end so much farther out (0 to 40)", () -> {
             NailStain x = Dues.shipOf(0, 0, 0);
             x.lies(1, 0, 0, -5, 0);
             x.lies(1, 0, 1, 7, 0);
@@ -49,7 +49,8 @@ final class EdgesOfLines {
             spanIs(far, 0, 30, 2970, 3030);
             spanIs(far, 1, 30, -3030, -2970);
         });
-        document.promise(22, "what 0 the low end, 1 the high one; -10000: none is told, no such ones.", () -> {
+        document.promise(22, "SPAN of a STRAKE at a STATION, so much farther out, what 0 the low end, 1 the high one; -10000: none is"
+                + " told, no such ones.", () -> {
             NailStain x = new NailStain();
             dues.due("no ship", x.span(0, 0, 0, 0), -10000);
             x.build(3, 2);
@@ -175,7 +176,8 @@ final class EdgesOfLines {
             rowIs(unseen, 0, 0, 0, 10, 20, 30);
             straightThroughTheWidest();
         });
-        document.promise(23, "what NONE the squares together, else y of STATION what; -1000000: none is told, no such ones.", () -> {
+        document.promise(23, "THE BATTEN of a STRAKE, what NONE the squares together, else y of STATION what; -1000000: none is told,"
+                + " no such ones.", () -> {
             NailStain x = new NailStain();
             dues.due("no ship, squares", x.batten(0, 0, -1), -1000000);
             dues.due("no ship, y", x.batten(0, 0, 0), -1000000);
@@ -234,7 +236,7 @@ final class EdgesOfLines {
             lostIs(-3000, 3000, 0, 0);
             lostIs(1, 3000, 1, 1);
         });
-        document.promise(24, "-2: y does not grow less (asked first)", () -> {
+        document.promise(24, "LOST beyond an end by a STRAKE; -2: y does not grow less (asked first)", () -> {
             lostIs(5, 5, -2, -2);
             lostIs(5, 4, -2, -2);
             lostIs(0, 0, -2, -2);

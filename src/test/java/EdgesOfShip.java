@@ -1,3 +1,5 @@
+import java.util.List;
+
 /** Edges of the ship, the sand and what is seen: the rest of the terms of ==== 1, promises 1 to 3 and 8 to 14. */
 final class EdgesOfShip {
     private final Sentences document;
@@ -38,6 +40,38 @@ final class EdgesOfShip {
             dues.due("the seed was 1", x.count(3), Dues.chance(1, 54));
         });
         document.term("The constants: `NONE = -1`: There is none.", () -> dues.due("NONE", NailStain.NONE, -1));
+        document.term("All memory is the digger's own.", () -> {
+            NailStain x = Views.withShip(3);
+            List<Long> before = Views.seen(x);
+            NailStain other = new NailStain();
+            Dues.rule(other, "y9(1=1)");
+            Dues.sand(other, "g1000(f=1);a5(1=1)");
+            Dues.stain(other, "e1(1=1)");
+            other.build(24, 8);
+            other.pitch(7);
+            other.cut(5);
+            other.drawing(1);
+            other.draw(0, 3, 3, 500);
+            other.size(0, 0, 0, 50);
+            other.thole(0, 0, 0);
+            other.mound(1, 999);
+            other.phosphor(0, 0, 999);
+            other.story(0, 0, 1);
+            other.sign(0, 1);
+            other.bury(3);
+            other.seed(5);
+            other.feed(1, 2, 3, 4, 5);
+            dues.yes("another object changes nothing", Views.seen(x).equals(before));
+            dues.yes("nor what comes behind", Views.seenBehind(x).equals(Views.seenBehind(Views.withShip(3))));
+        });
+        document.first("An object is used for at most 512 calls after it has been made", () -> {
+            NailStain x = new NailStain();
+            x.build(3, 1);
+            for (int call = 2; call <= 511; call++) {
+                x.lies(0, 0, call % 2, call, -call);
+            }
+            dues.due("the 512th call", x.rivet(0, 0, 1, 0), 511);
+        });
     }
 
     private void numbers() {
@@ -132,7 +166,7 @@ final class EdgesOfShip {
                 dues.due("a size stays", x.rivet(4, 1, 1, 3), 7);
             }
         });
-        document.promise(8, "(RIVETS, SIZES, DRAWINGS, CUT AWAY, tholes fall)", () -> {
+        document.promise(8, "BUILT, in place of what was there (RIVETS, SIZES, DRAWINGS, CUT AWAY, tholes fall)", () -> {
             NailStain x = new NailStain();
             x.build(24, 8);
             x.lies(2, 0, 1, 77, 78);
@@ -202,7 +236,7 @@ final class EdgesOfShip {
     }
 
     private void burying() {
-        document.term("BURIED in so many rounds (1 to 9)", () -> {
+        document.term("BURIED in so many rounds (1 to 9): in each round", () -> {
             for (int rounds = 1; rounds <= 9; rounds++) {
                 NailStain x = new NailStain();
                 Dues.sand(x, "a1(1=1);b0-2(1=1)");
@@ -318,7 +352,8 @@ final class EdgesOfShip {
     }
 
     private void telling() {
-        document.term("at y across (from the middle out, either SIDE) and z deep, both -3000 to 3000", () -> {
+        document.term("A RIVET: of a STATION, STRAKE, SIDE: at y across (from the middle out, either SIDE) and z deep, both -3000"
+                + " to 3000", () -> {
             NailStain x = new NailStain();
             x.build(3, 1);
             dues.yes("the least", x.lies(0, 0, 0, -3000, -3000));
@@ -329,6 +364,14 @@ final class EdgesOfShip {
             for (int[] place : refused) {
                 dues.no("lies", x.lies(0, 0, 0, place[0], place[1]));
                 atRivet(x, 0, 0, 3000, 3000);
+            }
+            x.build(24, 8);
+            for (int i = 0; i < 384; i++) {
+                x.lies(i / 16, i / 2 % 8, i % 2, i, -i);
+            }
+            for (int i = 0; i < 384; i++) {
+                dues.due("its own y", x.rivet(i / 16, i / 2 % 8, i % 2, 0), i);
+                dues.due("its own z", x.rivet(i / 16, i / 2 % 8, i % 2, 1), -i);
             }
         });
         document.term("A RIVET can be told where it lies, too (then it is not GONE), or that it is GONE.", () -> {
@@ -396,18 +439,21 @@ final class EdgesOfShip {
                 dues.due("what " + what, x.rivet(0, 0, 0, what), -10000);
             }
         });
-        document.promise(13, "2 whether it is GONE (1, 0), 3 SIZE, 4 whether it is seen (1, 0)", () -> {
+        document.promise(13, "Of a RIVET, what 0 y, 1 z, 2 whether it is GONE (1, 0), 3 SIZE, 4 whether it is seen (1, 0)", () -> {
             NailStain x = new NailStain();
             x.build(3, 1);
-            int[][] want = {{0, 0, 1}, {1, 99, 0}, {0, 0, 0}, {1, 1, 0}};
+            int[][] want = {{10, 20, 0, 0, 1}, {11, 21, 1, 99, 0}, {12, 22, 0, 0, 0}, {13, 23, 1, 1, 0}};
+            for (int i = 0; i < 4; i++) {
+                x.lies(i / 2, 0, i % 2, 10 + i, 20 + i);
+            }
             x.gone(0, 0, 1);
             x.size(0, 0, 1, 99);
             x.gone(1, 0, 1);
             x.size(1, 0, 1, 1);
             x.cut(2);
             for (int i = 0; i < 4; i++) {
-                for (int what = 2; what < 5; what++) {
-                    dues.due("rivet " + i + " what " + what, x.rivet(i / 2, 0, i % 2, what), want[i][what - 2]);
+                for (int what = 0; what < 5; what++) {
+                    dues.due("rivet " + i + " what " + what, x.rivet(i / 2, 0, i % 2, what), want[i][what]);
                 }
             }
         });

@@ -106,7 +106,7 @@ final class EdgesOfTexts {
                 dues.due("14 stay", x.count(5 + which), 14);
             }
         });
-        document.term("with a ; (59) between two", () -> {
+        document.term("with a ; (59) between two: a letter, E, and (C)", () -> {
             answers("y1(1=1);z2(1=1)", 2);
             answers("y1(1=1)z2(1=1)", -1007);
             answers("y1(1=1);;z2(1=1)", -1008);
@@ -114,6 +114,12 @@ final class EdgesOfTexts {
             answers(";y1(1=1)", -1000);
             answers("y1(1=1):z2(1=1)", -1007);
             answers("y1(1=1)<z2(1=1)", -1007);
+            answers("1(1=1)", -1000);
+            answers("(1=1)", -1000);
+            answers("y1=1", -1002);
+            answers("(1=1)y1", -1000);
+            answers("y(1=1)1", -1001);
+            answers("y1[1=1]", -1002);
         });
         document.term("of the first one of a letter whose C holds the E", () -> {
             NailStain x = new NailStain();
@@ -250,8 +256,8 @@ final class EdgesOfTexts {
     }
 
     private void numbers() {
-        document.term("E: TERMS with + or - between two; a TERM: FACTORS with one of * / % between two; from the left on",
-                () -> {
+        document.term("E: TERMS with + or - between two; a TERM: FACTORS with one of * / % between two; from the left on; a"
+                + " FACTOR: [E]", () -> {
             number("10-2-3", 5);
             number("20-3+4", 21);
             number("2+3*4", 14);

@@ -42,24 +42,38 @@ public final class LanguageTest {
         DUES.end("LanguageTest");
     }
 
+    /** The public face word by word, as the document has it: methods, the constructor, the constant. */
     private static void face(String document) {
-        Set<String> want = new TreeSet<>();
         int from = document.indexOf("public final class NailStain {");
         int to = document.indexOf("```", from);
-        Matcher method = Pattern.compile("public (\\w+) (\\w+)\\(([^)]*)\\);").matcher(document.substring(from, to));
-        while (method.find()) {
-            int parameters = method.group(3).isEmpty() ? 0 : method.group(3).split(",").length;
-            want.add(method.group(1) + " " + method.group(2) + " of " + parameters);
-        }
-        Set<String> got = new TreeSet<>();
-        for (Method one : NailStain.class.getDeclaredMethods()) {
-            if (Modifier.isPublic(one.getModifiers())) {
-                got.add(one.getReturnType() + " " + one.getName() + " of " + one.getParameterCount());
+        DUES.yes("the document has a face", from >= 0 && to > from);
+        Set<String> want = new TreeSet<>();
+        for (String line : document.substring(from, Math.max(from, to)).split("\n")) {
+            if (line.endsWith(";")) {
+                want.add(line.trim().replaceAll("(\\w+) \\w+(?=[,)])", "$1"));
             }
         }
-        DUES.due("methods of the face", got.size(), 43);
+        Set<String> got = new TreeSet<>();
+        got.add("public static final int NONE = " + NailStain.NONE + ";");
+        for (Constructor<?> one : NailStain.class.getConstructors()) {
+            got.add("public " + one.getName() + types(one.getParameterTypes()));
+        }
+        for (Method one : NailStain.class.getMethods()) {
+            if (one.getDeclaringClass() == NailStain.class) {
+                got.add(Modifier.toString(one.getModifiers()) + " " + one.getReturnType() + " " + one.getName()
+                        + types(one.getParameterTypes()));
+            }
+        }
+        DUES.due("a constant, a constructor and 43 methods", got.size(), 45);
         DUES.yes("the face is " + want + ", but the class has " + got, want.equals(got));
-        DUES.due("the constant", NailStain.NONE, -1);
+    }
+
+    private static String types(Class<?>[] parameters) {
+        StringBuilder all = new StringBuilder("(");
+        for (int i = 0; i < parameters.length; i++) {
+            all.append(i == 0 ? "" : ", ").append(parameters[i]);
+        }
+        return all.append(");").toString();
     }
 
     private static void members() {
@@ -78,7 +92,8 @@ public final class LanguageTest {
             DUES.yes(method + " is of the face or private", Modifier.isPublic(method.getModifiers()) || hidden);
         }
         for (Field field : NailStain.class.getDeclaredFields()) {
-            DUES.yes(field + " is private", Modifier.isPrivate(field.getModifiers()) || field.getName().equals("NONE"));
+            boolean isNone = field.toString().equals("public static final int NailStain.NONE");
+            DUES.yes(field + " is private", Modifier.isPrivate(field.getModifiers()) || isNone);
         }
         for (Class<?> inside : NailStain.class.getDeclaredClasses()) {
             for (Method method : inside.getDeclaredMethods()) {
