@@ -45,7 +45,8 @@ final class EdgesOfDrawings {
             dues.due("no drawing 4", x.count(14), -1);
             dues.no("a mark in drawing 4", x.mark(4, 0, 0, 0, 0, 0));
         });
-        document.promise(15, "A DRAWING of a YEAR (0 to 2100): its number; NONE: no ship, no such YEAR, 4 are there.", () -> {
+        document.promise(15, "A DRAWING of a YEAR (0 to 2100): its number; NONE: no ship, no such YEAR, 4 are"
+                + " there.", () -> {
             NailStain x = new NailStain();
             dues.due("no ship", x.drawing(1939), -1);
             x.build(3, 1);
@@ -132,8 +133,9 @@ final class EdgesOfDrawings {
     }
 
     private void drawn() {
-        document.term("DRAWN by a told shift and a slip: of all RIVETS that are neither GONE nor CUT AWAY: y, z and the shift; by"
-                + " LUCK (X as above, once for each such RIVET, by STATIONS, STRAKES, SIDES) below a told number of thousandths y is 50 more.", () -> {
+        document.term("DRAWN by a told shift and a slip: of all RIVETS that are neither GONE nor CUT AWAY: y, z and the"
+                + " shift; by LUCK (X as above, once for each such RIVET, by STATIONS, STRAKES, SIDES) below a told"
+                + " number of thousandths y is 50 more.", () -> {
             NailStain x = new NailStain();
             x.build(3, 2);
             x.drawing(1);
@@ -158,8 +160,8 @@ final class EdgesOfDrawings {
             slips(999, 999, 0);
             slips(999, 1000, 50);
         });
-        document.promise(17, "DRAWN by a shift (-2000 to 2000 each), thousandths: how many MARKS it has then; NONE: no such ones."
-                + " (MARKS before stay, where there is no such RIVET.)", () -> {
+        document.promise(17, "DRAWN by a shift (-2000 to 2000 each), thousandths: how many MARKS it has then; NONE: no"
+                + " such ones. (MARKS before stay, where there is no such RIVET.)", () -> {
             NailStain x = new NailStain();
             dues.due("no ship", x.draw(0, 0, 0, 0), -1);
             x.build(3, 1);
@@ -219,8 +221,8 @@ final class EdgesOfDrawings {
             x.mark(1, 0, 0, 0, 1, 1);
             dues.due("of all", x.joined(0, 1, 2), 6);
         });
-        document.term("the shift of y by which the y of the one are nearest to those of the other one, together (how far,"
-                + " without sign): the least such shift; z likewise.", () -> {
+        document.term("the shift of y by which the y of the one are nearest to those of the other one, together (how"
+                + " far, without sign): the least such shift; z likewise.", () -> {
             NailStain x = ofStations(6, 2);
             put(x, 0, 0, 0, 0, 0, 0, 0, 0);
             x.mark(1, 0, 0, 0, -7, 7);
@@ -242,8 +244,8 @@ final class EdgesOfDrawings {
             dues.due("the other way round, as much is left", x.joined(1, 0, 3), 1804);
             dues.due("the other way round, as much of z", x.joined(1, 0, 4), 1834);
         });
-        document.promise(19, "JOINED, what 0 the shift of y (of the second from the first), 1 that of z, 2 n, 3, 4 what is left,"
-                + " together, in y, in z", () -> {
+        document.promise(19, "JOINED, what 0 the shift of y (of the second from the first), 1 that of z, 2 n, 3, 4 what"
+                + " is left, together, in y, in z", () -> {
             NailStain x = ofStations(3, 2);
             put(x, 0, 6000, -6000, -6000);
             put(x, 1, -6000, 6000, 6000);
@@ -288,7 +290,8 @@ final class EdgesOfDrawings {
     }
 
     private void off() {
-        document.term("OFF: RIVETS of both that are farther from one another than so much, in y or z, behind that shift.", () -> {
+        document.term("OFF: RIVETS of both that are farther from one another than so much, in y or z, behind that"
+                + " shift.", () -> {
             NailStain x = ofStations(5, 2);
             put(x, 0, 0, 0, 0, 0, 0, 0);
             put(x, 1, 20, 10, 10, 10, 10, 10);
@@ -303,8 +306,8 @@ final class EdgesOfDrawings {
             x.mark(1, 1, 0, 0, 15, 13);
             dues.due("both of one count once", x.off(0, 1, 4), 2);
         });
-        document.promise(20, "How many RIVETS are OFF by more than so much (0 to 12000); NONE: no RIVET of both, no such ones, one"
-                + " twice.", () -> {
+        document.promise(20, "How many RIVETS are OFF by more than so much (0 to 12000); NONE: no RIVET of both, no"
+                + " such ones, one twice.", () -> {
             NailStain x = new NailStain();
             dues.due("no ship", x.off(0, 1, 0), -1);
             x.build(3, 1);
@@ -326,9 +329,9 @@ final class EdgesOfDrawings {
     }
 
     private void slipped() {
-        document.term("WHO SLIPPED of such a RIVET by a third DRAWING: 0 the first, 1 the second, 2 not known: that whose y and z"
-                + " (each taken off what it is JOINED by to the third) are together farther from those of the third (as far:"
-                + " not known).", () -> {
+        document.term("WHO SLIPPED of such a RIVET by a third DRAWING: 0 the first, 1 the second, 2 not known: that"
+                + " whose y and z (each taken off what it is JOINED by to the third) are together farther from those of"
+                + " the third (as far: not known).", () -> {
             NailStain x = ofStations(5, 3);
             put(x, 0, 3, 100, 100, 100, 100, 100);
             put(x, 1, 4, 200, 200, 200, 200, 200);
@@ -350,8 +353,8 @@ final class EdgesOfDrawings {
             who(x, 1);
             dues.due("turned", x.slipped(1, 0, 2, 2, 0, 0), 0);
         });
-        document.promise(21, "WHO SLIPPED, a or b (0, 1, 2) by DRAWING c; NONE: one of the three has no MARK of it, two of them no"
-                + " RIVET of both, no such ones, one twice.", () -> {
+        document.promise(21, "WHO SLIPPED, a or b (0, 1, 2) by DRAWING c; NONE: one of the three has no MARK of it, two"
+                + " of them no RIVET of both, no such ones, one twice.", () -> {
             NailStain x = new NailStain();
             dues.due("no ship", x.slipped(0, 1, 2, 0, 0, 0), -1);
             x.build(3, 1);

@@ -72,8 +72,8 @@ final class EdgesOfFinds {
     }
 
     private void odd() {
-        document.term("ODD are those with a SIZE that is farther from the SIZE most RIVETS have (of like ones the least) than so much.",
-                () -> {
+        document.term("ODD are those with a SIZE that is farther from the SIZE most RIVETS have (of like ones the"
+                + " least) than so much.", () -> {
             NailStain x = new NailStain();
             x.build(5, 2);
             x.size(0, 0, 0, 50);
@@ -108,8 +108,8 @@ final class EdgesOfFinds {
                 oneUsual(usual);
             }
         });
-        document.term("ODDS that by lot as many of those RIVETS with a SIZE that are of a STRAKE or more would be ODD: a fraction.",
-                () -> {
+        document.term("ODDS that by lot as many of those RIVETS with a SIZE that are of a STRAKE or more would be ODD:"
+                + " a fraction.", () -> {
             NailStain x = new NailStain();
             x.build(5, 2);
             fractionIs(x, 0, 0, 1, 1);
@@ -151,8 +151,8 @@ final class EdgesOfFinds {
     }
 
     private void repairs() {
-        document.promise(26, "REPAIRS of a STRAKE by more than so much (0 to 99), what 0 how many ODD, 1 of how many, 2 above, 3 below"
-                + " the line, without a common divisor; -1: no such ones, no ship.", () -> {
+        document.promise(26, "REPAIRS of a STRAKE by more than so much (0 to 99), what 0 how many ODD, 1 of how many, 2"
+                + " above, 3 below the line, without a common divisor; -1: no such ones, no ship.", () -> {
             NailStain x = new NailStain();
             dues.due("no ship", x.repairs(0, 0, 0), -1);
             x.build(24, 8);
@@ -181,8 +181,9 @@ final class EdgesOfFinds {
     }
 
     private void tholes() {
-        document.term("OARS: at each STATION and SIDE a thole was SEEN (1), was not there (0), or is not known (-1, at first; CUT AWAY:"
-                + " not known): pairs of oars: the least (both SIDES SEEN), the greatest (neither SIDE not there)", () -> {
+        document.term("OARS: at each STATION and SIDE a thole was SEEN (1), was not there (0), or is not known (-1, at"
+                + " first; CUT AWAY: not known): pairs of oars: the least (both SIDES SEEN), the greatest (neither SIDE"
+                + " not there)", () -> {
             for (int left = -1; left <= 1; left++) {
                 for (int right = -1; right <= 1; right++) {
                     NailStain x = new NailStain();
@@ -219,7 +220,8 @@ final class EdgesOfFinds {
             x.cut(1);
             dues.yes("where it is cut away", x.thole(0, 0, 1));
         });
-        document.promise(28, "OARS, what 0 the least, 1 the greatest, 2 known tholes, 3 SEEN ones; NONE for others, no ship.", () -> {
+        document.promise(28, "OARS, what 0 the least, 1 the greatest, 2 known tholes, 3 SEEN ones; NONE for others, no"
+                + " ship.", () -> {
             NailStain x = new NailStain();
             oarsAre(x, -1, -1, -1, -1);
             x.build(24, 1);
@@ -242,8 +244,8 @@ final class EdgesOfFinds {
     }
 
     private void pairs() {
-        document.term("and ODDS, if each unknown one were so by lot as those known ones are (of known ones so many SEEN): that all of a told"
-                + " STATION's would be", () -> {
+        document.term("and ODDS, if each unknown one were so by lot as those known ones are (of known ones so many"
+                + " SEEN): that all of a told STATION's would be", () -> {
             NailStain x = new NailStain();
             x.build(24, 1);
             x.thole(0, 0, 1);
@@ -267,8 +269,8 @@ final class EdgesOfFinds {
             pairIs(x, 23, 1849, 1936);
             pairIs(x, 0, 1849, 1936);
         });
-        document.promise(29, "ODDS that both tholes of a STATION were, what 0 above, 1 below the line, without a common divisor; -2: none"
-                + " is known; -1: no such ones.", () -> {
+        document.promise(29, "ODDS that both tholes of a STATION were, what 0 above, 1 below the line, without a common"
+                + " divisor; -2: none is known; -1: no such ones.", () -> {
             NailStain x = new NailStain();
             dues.due("no ship", x.pair(0, 0), -1);
             x.build(3, 1);
@@ -324,8 +326,8 @@ final class EdgesOfFinds {
     }
 
     private void body() {
-        document.term("the place of a shape of w by h CELLS with most in it; of like ones the first by rows (row by row, column by"
-                + " column); RANK: how many places have as much or more, of how many.", () -> {
+        document.term("the place of a shape of w by h CELLS with most in it; of like ones the first by rows (row by"
+                + " row, column by column); RANK: how many places have as much or more, of how many.", () -> {
             NailStain x = new NailStain();
             bodyIs(x, 1, 1, 0, 0, 0, 72, 72);
             bodyIs(x, 2, 3, 0, 0, 0, 44, 44);
@@ -342,8 +344,8 @@ final class EdgesOfFinds {
             x.phosphor(10, 4, 1);
             bodyIs(x, 2, 2, 10, 4, 6, 1, 55);
         });
-        document.promise(31, "A BODY of w by h CELLS, what 0 column, 1 row, 2 how much, 3 RANK, 4 of how many places; NONE: no such"
-                + " ones.", () -> {
+        document.promise(31, "A BODY of w by h CELLS, what 0 column, 1 row, 2 how much, 3 RANK, 4 of how many places;"
+                + " NONE: no such ones.", () -> {
             NailStain x = new NailStain();
             bodyIs(x, 12, 1, 0, 0, 0, 6, 6);
             bodyIs(x, 1, 6, 0, 0, 0, 12, 12);
@@ -355,7 +357,8 @@ final class EdgesOfFinds {
     }
 
     private void stories() {
-        document.term("STORIES 0 to 5: each says of SIGNS 0 to 5 by how many thousandths they would show (0 to 1000).", () -> {
+        document.term("STORIES 0 to 5: each says of SIGNS 0 to 5 by how many thousandths they would show (0 to"
+                + " 1000).", () -> {
             NailStain x = new NailStain();
             for (int k = 0; k < 6; k++) {
                 dues.due("told ones", x.count(9), k);
@@ -371,7 +374,8 @@ final class EdgesOfFinds {
                 x.sign(i, -1);
             }
         });
-        document.promise(32, "A STORY says of SIGN i so many thousandths (the STORY is told then): true; false: no such ones.", () -> {
+        document.promise(32, "A STORY says of SIGN i so many thousandths (the STORY is told then): true; false: no such"
+                + " ones.", () -> {
             NailStain x = new NailStain();
             int[][] refused = {{-1, 0, 0}, {6, 0, 0}, {0, -1, 0}, {0, 6, 0}, {0, 0, -1}, {0, 0, 1001}};
             for (int[] one : refused) {
@@ -427,8 +431,8 @@ final class EdgesOfFinds {
     }
 
     private void odds() {
-        document.term("ODDS: products over SIGNS that are known (thousandths, or 1000 less them), whole numbers; only told STORIES.",
-                () -> {
+        document.term("ODDS: products over SIGNS that are known (thousandths, or 1000 less them), whole numbers; only"
+                + " told STORIES.", () -> {
             NailStain x = new NailStain();
             for (int i = 0; i < 6; i++) {
                 x.story(2, i, 1000);
@@ -468,8 +472,8 @@ final class EdgesOfFinds {
     }
 
     private void next() {
-        document.term("NEXT: the SIGN that is not known that parts most: over pairs of told STORIES whose ODDS are not 0 how far their"
-                + " thousandths are apart, together: greatest; of like ones the lowest.", () -> {
+        document.term("NEXT: the SIGN that is not known that parts most: over pairs of told STORIES whose ODDS are not"
+                + " 0 how far their thousandths are apart, together: greatest; of like ones the lowest.", () -> {
             NailStain x = new NailStain();
             for (int k = 0; k < 6; k++) {
                 x.story(k, 5, k < 3 ? 0 : 1000);
@@ -489,7 +493,8 @@ final class EdgesOfFinds {
             x.sign(4, -1);
             nextIs(x, 4, 9000);
         });
-        document.promise(35, "NEXT, what 0 the SIGN, 1 by how much; NONE: all are known, no such what, no STORY is told.", () -> {
+        document.promise(35, "NEXT, what 0 the SIGN, 1 by how much; NONE: all are known, no such what, no STORY is"
+                + " told.", () -> {
             NailStain x = new NailStain();
             nextIs(x, -1, -1);
             x.story(3, 5, 700);

@@ -48,9 +48,10 @@ final class EdgesOfHull {
     }
 
     private void areas() {
-        document.term("WENT: by y of THE BATTEN of all STRAKES (0 the keel, each next one higher by so much: HEIGHT 1 to 200): AREA of a"
-                + " STATION to a water line at so many STRAKES w (0 to all less 1): between neighbouring STRAKES below it the sums"
-                + " of their y times HEIGHT (both SIDES; y below 0 counts 0)", () -> {
+        document.term("WENT: by y of THE BATTEN of all STRAKES (0 the keel, each next one higher by so much: HEIGHT 1"
+                + " to 200): AREA of a STATION to a water line at so many STRAKES w (0 to all less 1): between"
+                + " neighbouring STRAKES below it the sums of their y times HEIGHT (both SIDES; y below 0 counts"
+                + " 0)", () -> {
             NailStain x = small();
             dues.due("w 0", x.area(0, 200, 0, 0), 0);
             dues.due("w 1", x.area(0, 1, 0, 1), 3);
@@ -67,7 +68,8 @@ final class EdgesOfHull {
             dues.due("of one strake", one.area(0, 1, 0, 0), 0);
             dues.due("of one strake, w 1", one.area(0, 1, 0, 1), -1);
         });
-        document.promise(36, "AREA of a STATION to the water line; -1: THE BATTEN of some STRAKE is not told, no such ones.", () -> {
+        document.promise(36, "AREA of a STATION to the water line; -1: THE BATTEN of some STRAKE is not told, no such"
+                + " ones.", () -> {
             dues.due("no ship", new NailStain().area(0, 1, 0, 0), -1);
             NailStain x = small();
             int[][] refused = {{-1, 1, 0, 1}, {3, 1, 0, 1}, {0, 0, 0, 1}, {0, 201, 0, 1}, {0, 1, -1, 1}, {0, 1, 41, 1},
@@ -87,8 +89,8 @@ final class EdgesOfHull {
     }
 
     private void volumes() {
-        document.term("VOLUME: between neighbouring STATIONS the sums of their AREAS, all together, times PITCH, through 2 (rounded"
-                + " down).", () -> {
+        document.term("VOLUME: between neighbouring STATIONS the sums of their AREAS, all together, times PITCH,"
+                + " through 2 (rounded down).", () -> {
             NailStain x = small();
             x.pitch(1);
             // Areas to strake 1 are 3, 0, 0; to strake 2 they are 10, 4, 0.
@@ -128,7 +130,8 @@ final class EdgesOfHull {
             dues.due("no room at all, weight 0", flat.depth(1, 0, 0), 0);
             dues.due("no room at all, weight 1", flat.depth(1, 0, 1), -2);
         });
-        document.promise(38, "DEPTH for a weight (0 to 2000000000); -2: none is enough; NONE: as volume(), no such weight.", () -> {
+        document.promise(38, "DEPTH for a weight (0 to 2000000000); -2: none is enough; NONE: as volume(), no such"
+                + " weight.", () -> {
             dues.due("no ship", new NailStain().depth(1, 0, 0), -1);
             NailStain x = small();
             dues.due("the greatest weight", x.depth(200, 0, 2000000000), -2);
@@ -145,7 +148,8 @@ final class EdgesOfHull {
     }
 
     private void paces() {
-        document.term("PACE: the greatest whole number whose square is not above K times (STATIONS less 1) times PITCH.", () -> {
+        document.term("PACE: the greatest whole number whose square is not above K times (STATIONS less 1) times"
+                + " PITCH.", () -> {
             NailStain x = new NailStain();
             x.build(3, 1);
             x.pitch(1);
@@ -176,8 +180,8 @@ final class EdgesOfHull {
     }
 
     private void lengths() {
-        document.term("PLANKS for a STRAKE: its LENGTH: between neighbouring STATIONS the root (rounded down) of squares of PITCH and of the difference of y"
-                + " of THE BATTEN", () -> {
+        document.term("PLANKS for a STRAKE: its LENGTH: between neighbouring STATIONS the root (rounded down) of"
+                + " squares of PITCH and of the difference of y of THE BATTEN", () -> {
             NailStain x = Dues.shipOf(0, 4, 0);
             x.pitch(3);
             dues.due("5 and 5", x.length(0, 0), 10);
@@ -218,7 +222,8 @@ final class EdgesOfHull {
     }
 
     private void joints() {
-        document.term("JOINTS: STATIONS (not the ends) at which planks meet, each plank not longer than a told LENGTH", () -> {
+        document.term("JOINTS: STATIONS (not the ends) at which planks meet, each plank not longer than a told"
+                + " LENGTH", () -> {
             NailStain x = level(3, 1);
             jointsAre(x, 0, 20);
             jointsAre(x, 0, 19, 1);
@@ -247,7 +252,8 @@ final class EdgesOfHull {
             dues.due("the last of them", all.joints(0, 0, 10, 21), 22);
             dues.due("no end", all.joints(0, 0, 10, 22), -3);
         });
-        document.term("no JOINT nearer than two STATIONS to one of the STRAKE below (as it is laid in turn from STRAKE 0 on)", () -> {
+        document.term("no JOINT nearer than two STATIONS to one of the STRAKE below (as it is laid in turn from STRAKE"
+                + " 0 on)", () -> {
             NailStain x = level(7, 4);
             jointsAre(x, 0, 30, 3);
             dues.due("one station is too near", x.joints(1, 0, 30, -1), -2);
@@ -272,8 +278,8 @@ final class EdgesOfHull {
     }
 
     private void refusedJoints() {
-        document.promise(41, "JOINTS of a STRAKE for planks of at most so much (1 to 100000), what NONE how many, else the STATION of JOINT"
-                + " what; -2: it can't be (of this STRAKE or one below)", () -> {
+        document.promise(41, "JOINTS of a STRAKE for planks of at most so much (1 to 100000), what NONE how many, else"
+                + " the STATION of JOINT what; -2: it can't be (of this STRAKE or one below)", () -> {
             NailStain x = level(5, 3);
             dues.due("of this one", x.joints(0, 0, 9, -1), -2);
             dues.due("whatever is asked", x.joints(0, 0, 9, 0), -2);
@@ -302,8 +308,8 @@ final class EdgesOfHull {
     }
 
     private void lasting() {
-        document.term("LASTS: a stain of strength v (1 to 10000), by how wet (0 to 100): how many years until it is 0 or below (2000 at"
-                + " most).", () -> {
+        document.term("LASTS: a stain of strength v (1 to 10000), by how wet (0 to 100): how many years until it is 0"
+                + " or below (2000 at most).", () -> {
             NailStain x = new NailStain();
             Dues.stain(x, "e1+w/50(1=1)");
             int[][] want = {{1, 0, 1}, {2, 0, 2}, {1999, 0, 1999}, {2000, 0, 2000}, {2001, 0, -2}, {10000, 0, -2},
@@ -329,7 +335,8 @@ final class EdgesOfHull {
     }
 
     private void checks() {
-        document.term("CHECK of a STRAKE: y of THE BATTEN by STATIONS: right, or the first number that is not so.", () -> {
+        document.term("CHECK of a STRAKE: y of THE BATTEN by STATIONS: right, or the first number that is not"
+                + " so.", () -> {
             NailStain x = Dues.shipOf(-3000, 0, 3000);
             int[][] tapes = {{-3000, 0, 3000, 9, 9}, {-2999, 0, 3000, 0, 0}, {3000, 0, 3000, 0, 0}, {-3000, 1, 2999, 0, 0},
                 {-3000, 0, -3000, 0, 0}, {-3000, 0, 3000 + 65536, 0, 0}, {-3000 + (1 << 24), 0, 3000, 0, 0}};
@@ -345,7 +352,8 @@ final class EdgesOfHull {
             }
             dues.due("all 24", big.check(7, 0, 24), -1);
         });
-        document.promise(43, "CHECK of a STRAKE by the first n numbers of the tape (four bytes each; empty then)", () -> {
+        document.promise(43, "CHECK of a STRAKE by the first n numbers of the tape (four bytes each; empty"
+                + " then)", () -> {
             NailStain x = Dues.shipOf(258, 258, 258);
             x.feed(0x00000102, 0x00000102, 0x00000102, 0x02010000, 0x00000201);
             dues.due("the highest byte first", x.check(0, 0, 3), -1);
@@ -355,7 +363,8 @@ final class EdgesOfHull {
             dues.due("empty then, too", x.count(4), 0);
             dues.due("nothing is left", x.check(0, 0, 1), -2);
         });
-        document.promise(43, "NONE: right; else the place of the first number that is not so (n: some are lacking)", () -> {
+        document.promise(43, "NONE: right; else the place of the first number that is not so (n: some are"
+                + " lacking)", () -> {
             NailStain x = Dues.shipOf(1, -2, 3);
             dues.due("none of an empty tape", x.check(0, 0, 0), 0);
             int[] want = {0, 1, 2, -1, 3, 3};
@@ -418,8 +427,8 @@ final class EdgesOfHull {
                 dues.due("count(" + what + ")", x.count(what), -1);
             }
         });
-        document.promise(44, "0 STATIONS, 1 STRAKES, 2 RIVETS that are not GONE, 3 X, 4 bytes of the tape, 5, 6, 7 CLAUSES of THE RULE,"
-                + " THE SAND, THE STAIN, 8 DRAWINGS, 9 told STORIES", () -> {
+        document.promise(44, "0 STATIONS, 1 STRAKES, 2 RIVETS that are not GONE, 3 X, 4 bytes of the tape, 5, 6, 7"
+                + " CLAUSES of THE RULE, THE SAND, THE STAIN, 8 DRAWINGS, 9 told STORIES", () -> {
             NailStain x = new NailStain();
             Dues.rule(x, "y1(1=1)");
             Dues.sand(x, "g1000(1=1);g1(1=1)");

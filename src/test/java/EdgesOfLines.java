@@ -22,8 +22,9 @@ final class EdgesOfLines {
     }
 
     private void spans() {
-        document.term("LINES: of a STRAKE in y: each STATION has a SPAN: from the least to the greatest y of what is seen there of"
-                + " this STRAKE (both SIDES: RIVETS that are neither GONE nor CUT AWAY), each end so much farther out (0 to 40)", () -> {
+        document.term("LINES: of a STRAKE in y: each STATION has a SPAN: from the least to the greatest y of what is"
+                + " seen there of this STRAKE (both SIDES: RIVETS that are neither GONE nor CUT AWAY), each end so much"
+                + " farther out (0 to 40)", () -> {
             NailStain x = Dues.shipOf(0, 0, 0);
             x.lies(1, 0, 0, -5, 0);
             x.lies(1, 0, 1, 7, 0);
@@ -49,8 +50,8 @@ final class EdgesOfLines {
             spanIs(far, 0, 30, 2970, 3030);
             spanIs(far, 1, 30, -3030, -2970);
         });
-        document.promise(22, "SPAN of a STRAKE at a STATION, so much farther out, what 0 the low end, 1 the high one; -10000: none is"
-                + " told, no such ones.", () -> {
+        document.promise(22, "SPAN of a STRAKE at a STATION, so much farther out, what 0 the low end, 1 the high one;"
+                + " -10000: none is told, no such ones.", () -> {
             NailStain x = new NailStain();
             dues.due("no ship", x.span(0, 0, 0, 0), -10000);
             x.build(3, 2);
@@ -66,8 +67,8 @@ final class EdgesOfLines {
     }
 
     private void unseen() {
-        document.term("A STATION of which nothing is seen: from the least low end to the greatest high one of the next ones on"
-                + " either side of which something is.", () -> {
+        document.term("A STATION of which nothing is seen: from the least low end to the greatest high one of the next"
+                + " ones on either side of which something is.", () -> {
             NailStain x = Dues.shipOf(10, 99, 99, 40, 20, 99);
             x.lies(3, 0, 1, 35, 0);
             x.cut(1 << 1 | 1 << 2 | 1 << 5);
@@ -149,8 +150,9 @@ final class EdgesOfLines {
     }
 
     private void battens() {
-        document.term("THE BATTEN: y of all STATIONS, each within its SPAN, by which the squares of (y before less two y and y behind),"
-                + " over STATIONS that have both, are together least; of like ones the least row.", () -> {
+        document.term("THE BATTEN: y of all STATIONS, each within its SPAN, by which the squares of (y before less two"
+                + " y and y behind), over STATIONS that have both, are together least; of like ones the least"
+                + " row.", () -> {
             rowIs(Dues.shipOf(0, 10, 0), 0, 400, 0, 10, 0);
             rowIs(Dues.shipOf(0, 10, 0), 2, 144, 2, 8, 2);
             rowIs(Dues.shipOf(0, 10, 0), 4, 16, 4, 6, 4);
@@ -176,8 +178,8 @@ final class EdgesOfLines {
             rowIs(unseen, 0, 0, 0, 10, 20, 30);
             straightThroughTheWidest();
         });
-        document.promise(23, "THE BATTEN of a STRAKE, what NONE the squares together, else y of STATION what; -1000000: none is told,"
-                + " no such ones.", () -> {
+        document.promise(23, "THE BATTEN of a STRAKE, what NONE the squares together, else y of STATION what; -1000000:"
+                + " none is told, no such ones.", () -> {
             NailStain x = new NailStain();
             dues.due("no ship, squares", x.batten(0, 0, -1), -1000000);
             dues.due("no ship, y", x.batten(0, 0, 0), -1000000);
@@ -221,8 +223,8 @@ final class EdgesOfLines {
             dues.due("end 2", x.lost(0, 0, 2), -1);
             dues.due("end -1", x.lost(0, 0, -1), -1);
         });
-        document.term("by the two last y of THE BATTEN on as straight: how many STATIONS more until y is 0 or below (0: it is); told"
-                + " if y grows less.", () -> {
+        document.term("by the two last y of THE BATTEN on as straight: how many STATIONS more until y is 0 or below (0:"
+                + " it is); told if y grows less.", () -> {
             lostIs(0, 1, 0, 0);
             lostIs(-1, 0, 0, 0);
             lostIs(1, 2, 1, 1);

@@ -166,7 +166,8 @@ final class EdgesOfShip {
                 dues.due("a size stays", x.rivet(4, 1, 1, 3), 7);
             }
         });
-        document.promise(8, "BUILT, in place of what was there (RIVETS, SIZES, DRAWINGS, CUT AWAY, tholes fall)", () -> {
+        document.promise(8, "BUILT, in place of what was there (RIVETS, SIZES, DRAWINGS, CUT AWAY, tholes"
+                + " fall)", () -> {
             NailStain x = new NailStain();
             x.build(24, 8);
             x.lies(2, 0, 1, 77, 78);
@@ -282,8 +283,8 @@ final class EdgesOfShip {
             }
             dues.due("X then", x.count(3), chance);
         });
-        document.term("else y and z more by a and b (held to -3000 to 3000; all by THE SAND as it was ahead of it in this"
-                + " round)", () -> {
+        document.term("else y and z more by a and b (held to -3000 to 3000; all by THE SAND as it was ahead of it in"
+                + " this round)", () -> {
             NailStain x = new NailStain();
             x.build(3, 1);
             Dues.sand(x, "a1(1=1);b0-1(1=1)");
@@ -316,8 +317,8 @@ final class EdgesOfShip {
     }
 
     private void luck() {
-        document.term("X = (25173 X + 13849) modulo 65536 (X is THE SEED at first, 1), LUCK is X modulo 1000: GONE if that is"
-                + " below g", () -> {
+        document.term("X = (25173 X + 13849) modulo 65536 (X is THE SEED at first, 1), LUCK is X modulo 1000: GONE if"
+                + " that is below g", () -> {
             int[] seeds = {0, 1, 65535, 32768, 40000};
             int[] want = {13849, 39022, 54212, 46617, 38745};
             for (int i = 0; i < seeds.length; i++) {
@@ -352,8 +353,8 @@ final class EdgesOfShip {
     }
 
     private void telling() {
-        document.term("A RIVET: of a STATION, STRAKE, SIDE: at y across (from the middle out, either SIDE) and z deep, both -3000"
-                + " to 3000", () -> {
+        document.term("A RIVET: of a STATION, STRAKE, SIDE: at y across (from the middle out, either SIDE) and z deep,"
+                + " both -3000 to 3000", () -> {
             NailStain x = new NailStain();
             x.build(3, 1);
             dues.yes("the least", x.lies(0, 0, 0, -3000, -3000));
@@ -439,7 +440,8 @@ final class EdgesOfShip {
                 dues.due("what " + what, x.rivet(0, 0, 0, what), -10000);
             }
         });
-        document.promise(13, "Of a RIVET, what 0 y, 1 z, 2 whether it is GONE (1, 0), 3 SIZE, 4 whether it is seen (1, 0)", () -> {
+        document.promise(13, "Of a RIVET, what 0 y, 1 z, 2 whether it is GONE (1, 0), 3 SIZE, 4 whether it is seen (1,"
+                + " 0)", () -> {
             NailStain x = new NailStain();
             x.build(3, 1);
             int[][] want = {{10, 20, 0, 0, 1}, {11, 21, 1, 99, 0}, {12, 22, 0, 0, 0}, {13, 23, 1, 1, 0}};
@@ -472,8 +474,8 @@ final class EdgesOfShip {
             x.cut(0xffffff);
             dues.due("no line", x.batten(0, 0, -1), -1000000);
         });
-        document.promise(14, "CUT AWAY: a set of STATIONS, as bits, in place of the one before: true; false: there are not such"
-                + " ones.", () -> {
+        document.promise(14, "CUT AWAY: a set of STATIONS, as bits, in place of the one before: true; false: there are"
+                + " not such ones.", () -> {
             NailStain x = new NailStain();
             dues.yes("none, without a ship", x.cut(0));
             dues.no("one, without a ship", x.cut(1));

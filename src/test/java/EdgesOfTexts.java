@@ -223,8 +223,8 @@ final class EdgesOfTexts {
     }
 
     private void conditions() {
-        document.term("C: PARTS with a | between two, one of which must hold; a PART: PIECES with an & between two, all of"
-                + " which must; a PIECE: !PIECE, (C), or E, one of < > =, and E.", () -> {
+        document.term("C: PARTS with a | between two, one of which must hold; a PART: PIECES with an & between two, all"
+                + " of which must; a PIECE: !PIECE, (C), or E, one of < > =, and E.", () -> {
             for (int i = 0; i < 8; i++) {
                 boolean a = (i & 1) != 0;
                 boolean b = (i & 2) != 0;
@@ -256,8 +256,8 @@ final class EdgesOfTexts {
     }
 
     private void numbers() {
-        document.term("E: TERMS with + or - between two; a TERM: FACTORS with one of * / % between two; from the left on; a"
-                + " FACTOR: [E]", () -> {
+        document.term("E: TERMS with + or - between two; a TERM: FACTORS with one of * / % between two; from the left"
+                + " on; a FACTOR: [E]", () -> {
             number("10-2-3", 5);
             number("20-3+4", 21);
             number("2+3*4", 14);
@@ -301,8 +301,8 @@ final class EdgesOfTexts {
             dues.due("the first", x.rivet(0, 0, 0, 0), 0);
             dues.due("the last", x.rivet(23, 7, 1, 0), 2371);
         });
-        document.term("n how many STATIONS the ship has, c how far the STATION is from the nearer end (0 at it), k how many"
-                + " STRAKES", () -> {
+        document.term("n how many STATIONS the ship has, c how far the STATION is from the nearer end (0 at it), k how"
+                + " many STRAKES", () -> {
             int[] stations = {3, 4, 5, 23, 24};
             for (int n : stations) {
                 NailStain x = new NailStain();
@@ -521,8 +521,8 @@ final class EdgesOfTexts {
                 opened(mask);
             }
         });
-        document.term("(the ( of the CLAUSE counts; a ! is open till its PIECE ends; the E of a CLAUSE stands ahead of it)",
-                () -> {
+        document.term("(the ( of the CLAUSE counts; a ! is open till its PIECE ends; the E of a CLAUSE stands ahead of"
+                + " it)", () -> {
             answers("y1(((((([", -5008);
             answers("y1((((((", -1008);
             answers("y1(!!!!!f=f&!!!!!f=f|!!!!!f=f)", 1);
@@ -567,8 +567,8 @@ final class EdgesOfTexts {
     }
 
     private void tape() {
-        document.promise(4, "Twenty bytes come behind the tape, the highest of each int first: how many it has; NONE if that"
-                + " would be more than 220.", () -> {
+        document.promise(4, "Twenty bytes come behind the tape, the highest of each int first: how many it has; NONE if"
+                + " that would be more than 220.", () -> {
             NailStain x = new NailStain();
             for (int i = 1; i <= 11; i++) {
                 dues.due("feed " + i, x.feed(0, -1, MOST, -MOST - 1, i), 20 * i);
